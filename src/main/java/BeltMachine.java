@@ -269,8 +269,9 @@ public final class BeltMachine {
 
     /** Lists of positions: position + 1 in four bits each, the first one lowest, up to a 0. */
     private static final class Lists {
-        private static final int MOST = 8;
+        static final int MOST = 8;
 
+        /** 0 where the list ends, else one more than the position. */
         static int place(int list, int i) {
             return list >>> i * PLACE_BITS & PLACE_MASK;
         }
@@ -282,10 +283,6 @@ public final class BeltMachine {
                 }
             }
             return MOST;
-        }
-
-        static int position(int list, int i) {
-            return place(list, i) - 1;
         }
 
         /** How many positions must be filled so that none of the list is empty. */
@@ -512,6 +509,7 @@ public final class BeltMachine {
 
         private void leave(Code code, int bundle, Code[] codes) {
             int control = code.control(bundle);
+            // Without CONTROL any other kind will do: the next bundle is the one behind.
             int kind = control == NONE ? CONSTANT : code.kinds[control];
             int before = flightCount(flying);
             flying = withoutLanded(flying);
@@ -526,8 +524,9 @@ public final class BeltMachine {
             }
         }
 
-        private void lead(Code code, int from, int to, int dropped) {
-            int positions = Math.min(dropped, POSITIONS);
+        /** Bundle to gets its state from bundle from; a belt holds no more than its positions. */
+        private void lead(Code code, int from, int to, int valuesThere) {
+            int positions = Math.min(valuesThere, POSITIONS);
             if (to >= code.bundles) {
                 blame(NO_SUCH_BUNDLE, from);
             } else if (filled[to] == NONE) {
@@ -600,11 +599,13 @@ public final class BeltMachine {
         }
 
         void drop(long value) {
-            for (int i = POSITIONS - 1; i > 0; i--) {
+            if (filled < POSITIONS) {
+                filled++;
+            }
+            for (int i = filled - 1; i > 0; i--) {
                 values[i] = values[i - 1];
             }
             values[0] = value;
-            filled = Math.min(filled + 1, POSITIONS);
         }
 
         boolean isSpilled(int cell) {
@@ -647,7 +648,7 @@ public final class BeltMachine {
         boolean begun;
         int depth;
         int resultCount;
-        final long[] results = new long[POSITIONS];
+        final long[] results = new long[MOST_RESULTS];
         private final Frame[] frames = new Frame[FRAMES];
         private int trap;
         private int cycles;
@@ -818,7 +819,7 @@ public final class BeltMachine {
             return SOUND;
         }
 
-        /** The CONTROL of a bundle, and the end of the cycle where that comes; its trap, or SOUND. */
+        /** The CONTROL of a bundle, and the end of its cycle; the trap, or SOUND. */
         private int steer(Frame top, Code code, int at) {
             if (code.reaches[at] > top.filled) {
                 return EMPTY_POSITION;
@@ -850,12 +851,16 @@ public final class BeltMachine {
             }
         }
 
+        /** Takes the values of a list from the belt, and answers how many they are. */
         private int take(Frame top, int list) {
-            int length = Lists.length(list);
-            for (int i = 0; i < length; i++) {
-                taken[i] = top.values[Lists.position(list, i)];
+            for (int i = 0; i < Lists.MOST; i++) {
+                int place = Lists.place(list, i);
+                if (place == 0) {
+                    return i;
+                }
+                taken[i] = top.values[place - 1];
             }
-            return length;
+            return Lists.MOST;
         }
 
         private static void goOn(Frame top) {
@@ -863,12 +868,14 @@ public final class BeltMachine {
             top.bundle++;
         }
 
+        /** Goes to a bundle, keeping what is taken. */
         private void jump(Frame top, int bundle, int listed) {
             top.keep(taken, listed);
             top.land();
             top.bundle = bundle;
         }
 
+        /** The frame on top is gone, and what is taken are its results. */
         private void giveBack(int listed) {
             depth--;
             if (depth == 0) {
@@ -878,7 +885,8 @@ public final class BeltMachine {
             }
             // The caller's cycle, which stood still at its CALL, ends here.
             Frame caller = top();
-            goOn(caller);
+            caller.land();
+            caller.bundle++;
             for (int i = listed - 1; i >= 0; i--) {
                 caller.drop(taken[i]);
             }

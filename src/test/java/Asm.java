@@ -74,6 +74,35 @@ final class Asm {
         return new int[] {14, ODD, ODD, list(results)};
     }
 
+    /** By code, of the operations that withTwoArguments() answers. */
+    static final int[] LATENCIES = {1, 1, 1, 1, 1, 3, 4, 2, 0, 0};
+
+    /** Codes 0 to 9, each in a form that two arguments suffice for; 9 spills to cell 1. */
+    static int[][] withTwoArguments() {
+        return new int[][] {
+            constant(3), add(0, 1), subtract(0, 1), less(0, 1), same(0, 1), multiply(0, 1),
+            divide(0, 1), load(0), store(0, 1), spill(0, 1),
+        };
+    }
+
+    /** Every way to name position 2, for a function 0 with two arguments and two results. */
+    static int[][] namingPosition2() {
+        return new int[][] {
+            add(0, 2), add(2, 0), subtract(0, 2), subtract(2, 0), less(0, 2), less(2, 0),
+            same(0, 2), same(2, 0), multiply(0, 2), multiply(2, 0), divide(0, 2), divide(2, 0),
+            load(2), store(0, 2), store(2, 0), spill(2, 0), branch(2, 0), branch(0, 0, 1, 2),
+            jump(0, 2), jump(0, 0, 1, 0, 1, 0, 1, 0, 2), call(0, 0, 2), call(0, 2, 0),
+            giveBack(0, 2), giveBack(2, 0),
+        };
+    }
+
+    /** A machine with function 0, without bundles. */
+    static BeltMachine machine(int arguments, int results) {
+        BeltMachine m = new BeltMachine();
+        m.function(arguments, results);
+        return m;
+    }
+
     static void bundle(BeltMachine m, int function, int[]... operations) {
         m.bundle(function);
         for (int[] o : operations) {

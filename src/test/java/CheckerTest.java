@@ -21,14 +21,9 @@ public final class CheckerTest {
         unreachedBundles();
         statesAtAFault();
         latestCheckCounts();
+        nothingOfAnEarlierCheck();
         whatOutOfRange();
         due.end();
-    }
-
-    private static BeltMachine machine(int arguments, int results) {
-        BeltMachine m = new BeltMachine();
-        m.function(arguments, results);
-        return m;
     }
 
     /** The fault of function 0 and the bundle it is told of. */
@@ -55,7 +50,7 @@ public final class CheckerTest {
     }
 
     private static void noBundles() {
-        BeltMachine m = machine(2, 0);
+        BeltMachine m = Asm.machine(2, 0);
         fault("5: no bundles", m, 6, 0);
         due.same("6: no states", m.checked(1), 0);
         due.same("6: no looks", m.checked(2), 0);
@@ -65,7 +60,7 @@ public final class CheckerTest {
     private static void emptyPositions() {
         for (int arguments = 0; arguments <= 4; arguments++) {
             for (int position = 0; position < 8; position++) {
-                BeltMachine m = machine(arguments, 1);
+                BeltMachine m = Asm.machine(arguments, 1);
                 Asm.bundle(m, 0, Asm.giveBack(position));
                 due.same("5: position " + position + " of " + arguments, m.check(0),
                         position < arguments ? 0 : 1);
@@ -74,36 +69,25 @@ public final class CheckerTest {
     }
 
     private static void allNamedPositions() {
-        int[][] empty = {
-            Asm.add(0, 2), Asm.add(2, 0), Asm.subtract(0, 2), Asm.subtract(2, 0), Asm.less(0, 2),
-            Asm.less(2, 0), Asm.same(0, 2), Asm.same(2, 0), Asm.multiply(0, 2), Asm.multiply(2, 0),
-            Asm.divide(0, 2), Asm.divide(2, 0), Asm.load(2), Asm.store(0, 2), Asm.store(2, 0),
-            Asm.spill(2, 0), Asm.branch(2, 0), Asm.branch(0, 0, 1, 2), Asm.jump(0, 2),
-            Asm.jump(0, 0, 1, 0, 1, 0, 1, 0, 2), Asm.call(0, 0, 2), Asm.call(0, 2, 0),
-            Asm.giveBack(0, 2), Asm.giveBack(2, 0),
-        };
-        for (int[] operation : empty) {
-            BeltMachine m = machine(2, 2);
+        for (int[] operation : Asm.namingPosition2()) {
+            BeltMachine m = Asm.machine(2, 2);
             Asm.bundle(m, 0, operation);
             fault("5: code " + operation[0] + " of a position that is empty", m, 1, 0);
         }
-        BeltMachine m = machine(0, 0);
+        BeltMachine m = Asm.machine(0, 0);
         Asm.bundle(m, 0, Asm.constant(9), Asm.constant(-9));
         Asm.bundle(m, 0, Asm.giveBack());
         fault("5: a constant names no position", m, 0, -1);
-        BeltMachine late = machine(1, 0);
+        BeltMachine late = Asm.machine(1, 0);
         Asm.bundle(late, 0, Asm.constant(1), Asm.add(0, 1));
         fault("5: a result is not there in its own cycle", late, 1, 0);
     }
 
     private static void latencies() {
-        int[][] operations = {
-            Asm.constant(1), Asm.add(0, 0), Asm.subtract(0, 0), Asm.less(0, 0), Asm.same(0, 0),
-            Asm.multiply(0, 0), Asm.divide(0, 0), Asm.load(0), Asm.store(0, 0), Asm.spill(0, 1),
-        };
-        int[] latency = {1, 1, 1, 1, 1, 3, 4, 2, 0, 0};
+        int[][] operations = Asm.withTwoArguments();
+        int[] latency = Asm.LATENCIES;
         for (int i = 0; i < operations.length; i++) {
-            BeltMachine m = machine(1, 0);
+            BeltMachine m = Asm.machine(2, 0);
             Asm.bundle(m, 0, operations[i]);
             Asm.pause(m, 0, 4);
             Asm.bundle(m, 0, Asm.giveBack());
@@ -111,17 +95,17 @@ public final class CheckerTest {
             for (int cycle = 1; cycle <= 5; cycle++) {
                 int landed = latency[i] > 0 && cycle >= latency[i] ? 1 : 0;
                 int flying = latency[i] > cycle ? 1 : 0;
-                state("6: code " + i, m, cycle, 1 + landed, flying, i == 9 ? 2 : 0);
+                state("6: code " + i, m, cycle, 2 + landed, flying, i == 9 ? 2 : 0);
             }
         }
     }
 
     private static void flightsInOrder() {
-        BeltMachine later = machine(1, 0);
+        BeltMachine later = Asm.machine(1, 0);
         Asm.bundle(later, 0, Asm.divide(0, 0));
         Asm.bundle(later, 0, Asm.jump(1, 0));
         fault("5: the same flight a cycle later", later, 8, 1);
-        BeltMachine other = machine(2, 0);
+        BeltMachine other = Asm.machine(2, 0);
         Asm.bundle(other, 0, Asm.branch(0, 2, 0, 1));
         Asm.bundle(other, 0, Asm.divide(0, 0), Asm.multiply(0, 0), Asm.jump(3, 0));
         Asm.bundle(other, 0, Asm.multiply(0, 0), Asm.divide(0, 0), Asm.jump(3, 0));
@@ -129,7 +113,7 @@ public final class CheckerTest {
         Asm.bundle(other, 0, Asm.giveBack());
         fault("5: the same flights in another order", other, 8, 3);
         due.same("6: looks till then", other.checked(2), 3);
-        BeltMachine alike = machine(2, 0);
+        BeltMachine alike = Asm.machine(2, 0);
         Asm.bundle(alike, 0, Asm.branch(0, 2, 0, 1));
         Asm.bundle(alike, 0, Asm.divide(0, 0), Asm.multiply(0, 0), Asm.jump(3, 0));
         Asm.bundle(alike, 0, Asm.divide(1, 0), Asm.constant(4), Asm.multiply(1, 1), Asm.jump(3));
@@ -143,7 +127,7 @@ public final class CheckerTest {
     }
 
     private static void beltOfEight() {
-        BeltMachine m = machine(0, 0);
+        BeltMachine m = Asm.machine(0, 0);
         int[] one = Asm.constant(1);
         int[] slow = Asm.divide(7, 7);
         Asm.bundle(m, 0, one, one, one);
@@ -167,27 +151,28 @@ public final class CheckerTest {
     }
 
     private static void spilledForSure() {
-        BeltMachine none = machine(1, 0);
+        BeltMachine none = Asm.machine(1, 0);
         Asm.bundle(none, 0, Asm.fill(0));
         fault("5: nothing spilled", none, 5, 0);
-        BeltMachine ahead = machine(1, 0);
+        BeltMachine ahead = Asm.machine(1, 0);
         Asm.bundle(ahead, 0, Asm.spill(0, 7), Asm.fill(7));
         Asm.bundle(ahead, 0, Asm.giveBack());
         fault("5: spilled ahead in the bundle", ahead, 0, -1);
         state("6: spilled ahead in the bundle", ahead, 1, 2, 0, 128);
-        BeltMachine behind = machine(1, 0);
+        BeltMachine behind = Asm.machine(1, 0);
         Asm.bundle(behind, 0, Asm.fill(7), Asm.spill(0, 7));
         fault("5: spilled behind in the bundle", behind, 5, 0);
-        BeltMachine other = machine(1, 0);
+        BeltMachine other = Asm.machine(1, 0);
         Asm.bundle(other, 0, Asm.spill(0, 0), Asm.spill(0, 6));
         Asm.bundle(other, 0, Asm.fill(7));
         fault("5: others spilled", other, 5, 1);
         cellsThatBothHave();
         lookedAtAgain();
+        lookedAtFiveTimes();
     }
 
     private static void cellsThatBothHave() {
-        BeltMachine m = machine(1, 0);
+        BeltMachine m = Asm.machine(1, 0);
         Asm.bundle(m, 0, Asm.spill(0, 1), Asm.spill(0, 2), Asm.branch(0, 2, 0));
         Asm.bundle(m, 0, Asm.spill(0, 3), Asm.jump(3, 0));
         Asm.bundle(m, 0, Asm.spill(0, 4));
@@ -203,7 +188,7 @@ public final class CheckerTest {
 
     /** Bundle 3 leads to bundle 2 when that has been looked at with cell 5. */
     private static void lookedAtAgain() {
-        BeltMachine m = machine(1, 0);
+        BeltMachine m = Asm.machine(1, 0);
         Asm.bundle(m, 0, Asm.branch(0, 3, 0));
         Asm.bundle(m, 0, Asm.spill(0, 5));
         Asm.bundle(m, 0, Asm.jump(4, 0));
@@ -214,7 +199,7 @@ public final class CheckerTest {
         due.same("6: five have states", m.checked(1), 5);
         state("6: a cell is lost", m, 2, 1, 0, 0);
         state("6: a cell is lost", m, 4, 1, 0, 0);
-        BeltMachine bad = machine(1, 0);
+        BeltMachine bad = Asm.machine(1, 0);
         Asm.bundle(bad, 0, Asm.branch(0, 3, 0));
         Asm.bundle(bad, 0, Asm.spill(0, 5));
         Asm.bundle(bad, 0, Asm.fill(5), Asm.jump(4));
@@ -225,27 +210,48 @@ public final class CheckerTest {
         state("6: not looked at again", bad, 4, 1, 0, 32);
     }
 
+    /** A chain of fourteen bundles that loses its four cells one by one. */
+    private static void lookedAtFiveTimes() {
+        BeltMachine m = Asm.machine(1, 0);
+        Asm.bundle(m, 0, Asm.branch(0, 16, 0));
+        Asm.bundle(m, 0, Asm.spill(0, 0), Asm.spill(0, 1), Asm.spill(0, 2), Asm.spill(0, 3));
+        Asm.pause(m, 0, 13);
+        Asm.bundle(m, 0, Asm.giveBack());
+        for (int i = 0; i < 4; i++) {
+            Asm.bundle(m, 0, i < 3 ? Asm.branch(0, 20 + i, 0) : Asm.jump(23, 0));
+        }
+        for (int i = 0; i < 4; i++) {
+            Asm.bundle(m, 0, Asm.spill(0, i + 1 & 3), Asm.spill(0, i + 2 & 3),
+                    Asm.spill(0, i + 3 & 3), Asm.jump(2, 0));
+        }
+        fault("5: cells are lost one by one", m, 0, -1);
+        due.same("6: all have states", m.checked(1), 24);
+        due.same("6: the chain is looked at five times", m.checked(2), 10 + 5 * 14);
+        state("6: the chain's begin", m, 2, 1, 0, 0);
+        state("6: the chain's end", m, 15, 1, 0, 0);
+    }
+
     private static void missingBundles() {
-        BeltMachine through = machine(1, 0);
+        BeltMachine through = Asm.machine(1, 0);
         Asm.pause(through, 0, 24);
         fault("5: behind the last", through, 6, 23);
         due.same("6: looks", through.checked(2), 24);
         state("6: the last one", through, 23, 1, 0, 0);
-        BeltMachine jump = machine(1, 0);
+        BeltMachine jump = Asm.machine(1, 0);
         Asm.bundle(jump, 0);
         Asm.bundle(jump, 0, Asm.jump(3));
         Asm.bundle(jump, 0, Asm.giveBack());
         fault("5: a jump behind the last", jump, 6, 1);
         due.same("6: it gives no state", jump.checked(1), 2);
-        BeltMachine branch = machine(1, 0);
+        BeltMachine branch = Asm.machine(1, 0);
         Asm.bundle(branch, 0, Asm.branch(0, 2));
         Asm.bundle(branch, 0, Asm.giveBack());
         fault("5: a branch behind the last", branch, 6, 0);
         due.same("6: the one behind has got its state", branch.checked(1), 2);
-        BeltMachine last = machine(1, 0);
+        BeltMachine last = Asm.machine(1, 0);
         Asm.bundle(last, 0, Asm.branch(0, 0, 0));
         fault("5: behind a branch", last, 6, 0);
-        BeltMachine call = machine(1, 0);
+        BeltMachine call = Asm.machine(1, 0);
         Asm.bundle(call, 0, Asm.call(0, 0));
         fault("5: behind a call", call, 6, 0);
     }
@@ -254,7 +260,7 @@ public final class CheckerTest {
         int[][] operations = {Asm.constant(1), Asm.load(0), Asm.multiply(0, 0), Asm.divide(0, 0)};
         for (int i = 0; i < operations.length; i++) {
             for (int cycles = 0; cycles <= 4; cycles++) {
-                BeltMachine m = machine(1, 1);
+                BeltMachine m = Asm.machine(1, 1);
                 Asm.bundle(m, 0, operations[i]);
                 Asm.pause(m, 0, cycles);
                 Asm.bundle(m, 0, Asm.giveBack(0));
@@ -262,29 +268,29 @@ public final class CheckerTest {
                         cycles < i ? 7 : 0, cycles < i ? cycles + 1 : -1);
             }
         }
-        BeltMachine m = machine(1, 1);
+        BeltMachine m = Asm.machine(1, 1);
         Asm.bundle(m, 0, Asm.constant(1), Asm.giveBack(0));
         fault("5: return in the bundle itself", m, 7, 0);
     }
 
     private static void otherStates() {
-        BeltMachine positions = machine(1, 0);
+        BeltMachine positions = Asm.machine(1, 0);
         Asm.bundle(positions, 0, Asm.branch(0, 2));
         Asm.bundle(positions, 0);
         Asm.bundle(positions, 0, Asm.giveBack());
         fault("5: another number of positions", positions, 8, 2);
         due.same("6: looks till then", positions.checked(2), 2);
         state("6: it keeps what it has", positions, 2, 0, 0, 0);
-        BeltMachine flights = machine(1, 0);
+        BeltMachine flights = Asm.machine(1, 0);
         Asm.bundle(flights, 0, Asm.spill(0, 0), Asm.branch(0, 2, 0));
         Asm.bundle(flights, 0, Asm.multiply(0, 0));
         Asm.bundle(flights, 0, Asm.giveBack());
         fault("5: other flights", flights, 8, 2);
         state("6: it keeps what it has", flights, 2, 1, 0, 1);
-        BeltMachine itself = machine(0, 0);
+        BeltMachine itself = Asm.machine(0, 0);
         Asm.bundle(itself, 0, Asm.constant(1), Asm.jump(0));
         fault("5: a bundle that leads to itself", itself, 8, 0);
-        BeltMachine slower = machine(1, 0);
+        BeltMachine slower = Asm.machine(1, 0);
         Asm.bundle(slower, 0, Asm.multiply(0, 0), Asm.branch(0, 3, 0));
         Asm.bundle(slower, 0);
         Asm.bundle(slower, 0, Asm.multiply(0, 0), Asm.jump(3));
@@ -294,31 +300,31 @@ public final class CheckerTest {
     }
 
     private static void faultOrder() {
-        BeltMachine m = machine(1, 1);
+        BeltMachine m = Asm.machine(1, 1);
         Asm.bundle(m, 0, Asm.fill(0), Asm.add(5, 5));
         fault("5: FILL ahead", m, 5, 0);
-        BeltMachine add = machine(1, 1);
+        BeltMachine add = Asm.machine(1, 1);
         Asm.bundle(add, 0, Asm.add(5, 5), Asm.fill(0));
         fault("5: ADD ahead", add, 1, 0);
-        BeltMachine both = machine(1, 1);
+        BeltMachine both = Asm.machine(1, 1);
         Asm.bundle(both, 0, Asm.constant(1), Asm.giveBack(3));
         fault("5: the position ahead of the flight", both, 1, 0);
-        BeltMachine operations = machine(1, 1);
+        BeltMachine operations = Asm.machine(1, 1);
         Asm.bundle(operations, 0, Asm.branch(3, 9));
         fault("5: the operation ahead of the next bundles", operations, 1, 0);
-        BeltMachine behind = machine(1, 0);
+        BeltMachine behind = Asm.machine(1, 0);
         Asm.bundle(behind, 0, Asm.branch(0, 2, 0));
         Asm.bundle(behind, 0, Asm.constant(1), Asm.branch(0, 20, 0));
         Asm.bundle(behind, 0, Asm.giveBack());
         fault("5: 8 of the one behind ahead of 6", behind, 8, 2);
-        BeltMachine target = machine(1, 0);
+        BeltMachine target = Asm.machine(1, 0);
         Asm.bundle(target, 0);
         Asm.bundle(target, 0, Asm.constant(1), Asm.branch(0, 0, 0));
         fault("5: 6 of the one behind ahead of 8", target, 6, 1);
     }
 
     private static void branchAndJump() {
-        BeltMachine m = machine(2, 0);
+        BeltMachine m = Asm.machine(2, 0);
         Asm.bundle(m, 0, Asm.constant(1), Asm.multiply(0, 1), Asm.branch(0, 2, 0, 1, 0, 1, 1));
         Asm.bundle(m, 0, Asm.jump(3, 2));
         Asm.bundle(m, 0, Asm.jump(3, 5));
@@ -329,18 +335,18 @@ public final class CheckerTest {
         state("6: where it goes", m, 2, 6, 1, 0);
         state("6: where both jump", m, 3, 1, 1, 0);
         state("6: behind that", m, 4, 2, 0, 0);
-        BeltMachine loop = machine(1, 0);
+        BeltMachine loop = Asm.machine(1, 0);
         Asm.bundle(loop, 0, Asm.jump(0, 0));
         fault("5: a loop without end", loop, 0, -1);
         due.same("6: one look", loop.checked(2), 1);
-        BeltMachine bits = machine(1, 0);
+        BeltMachine bits = Asm.machine(1, 0);
         bits.bundle(0);
         bits.operation(0, 12, 0, 0, 0x99901);
         fault("5: a list ends at a 0", bits, 0, -1);
     }
 
     private static void calls() {
-        BeltMachine m = machine(1, 0);
+        BeltMachine m = Asm.machine(1, 0);
         m.function(2, 3);
         m.function(0, 0);
         Asm.bundle(m, 0, Asm.multiply(0, 0), Asm.call(1, 0, 0));
@@ -355,7 +361,7 @@ public final class CheckerTest {
     }
 
     private static void leastBundleFirst() {
-        BeltMachine m = machine(1, 0);
+        BeltMachine m = Asm.machine(1, 0);
         Asm.bundle(m, 0, Asm.jump(3, 0));
         Asm.bundle(m, 0, Asm.fill(0));
         Asm.bundle(m, 0, Asm.giveBack());
@@ -369,7 +375,7 @@ public final class CheckerTest {
     }
 
     private static void unreachedBundles() {
-        BeltMachine m = machine(1, 1);
+        BeltMachine m = Asm.machine(1, 1);
         Asm.bundle(m, 0, Asm.giveBack(0));
         Asm.bundle(m, 0, Asm.add(7, 7));
         Asm.bundle(m, 0, Asm.fill(7), Asm.jump(23));
@@ -380,7 +386,7 @@ public final class CheckerTest {
     }
 
     private static void statesAtAFault() {
-        BeltMachine m = machine(3, 0);
+        BeltMachine m = Asm.machine(3, 0);
         Asm.bundle(m, 0, Asm.spill(2, 1), Asm.branch(0, 2, 0));
         Asm.bundle(m, 0, Asm.load(3));
         Asm.bundle(m, 0, Asm.giveBack());
@@ -392,7 +398,7 @@ public final class CheckerTest {
     }
 
     private static void latestCheckCounts() {
-        BeltMachine m = machine(1, 0);
+        BeltMachine m = Asm.machine(1, 0);
         m.function(3, 0);
         Asm.bundle(m, 0, Asm.giveBack());
         Asm.bundle(m, 1);
@@ -416,8 +422,27 @@ public final class CheckerTest {
         due.same("6: as the code is", m.checked(1), 2);
     }
 
+    private static void nothingOfAnEarlierCheck() {
+        BeltMachine m = Asm.machine(2, 0);
+        m.function(1, 0);
+        Asm.bundle(m, 0, Asm.spill(0, 0), Asm.multiply(0, 0), Asm.branch(0, 2, 0));
+        Asm.bundle(m, 0, Asm.add(7, 7));
+        Asm.bundle(m, 0);
+        Asm.bundle(m, 1, Asm.giveBack());
+        Asm.bundle(m, 1, Asm.fill(0));
+        Asm.bundle(m, 1, Asm.fill(0));
+        due.same("5: a bundle still waits", m.check(0), 1);
+        due.same("6: it has a state", m.checked(10), 1);
+        due.same("5: sound", m.check(1), 0);
+        due.same("6: no fault", m.checked(0), -1);
+        due.same("6: one state", m.checked(1), 1);
+        due.same("6: one look", m.checked(2), 1);
+        state("6: of function 1", m, 0, 1, 0, 0);
+        state("6: of function 1", m, 2, -1, -1, -1);
+    }
+
     private static void whatOutOfRange() {
-        BeltMachine m = machine(1, 0);
+        BeltMachine m = Asm.machine(1, 0);
         Asm.pause(m, 0, 24);
         m.check(0);
         int[] others = {Integer.MIN_VALUE, -8, -1, 3, 4, 5, 6, 7, 80, 81, 104, Integer.MAX_VALUE};

@@ -238,8 +238,11 @@ final class Model {
         if (states == null) {
             return -1;
         }
-        if (what >= 0 && what <= 2) {
-            return what == 0 ? fault == null ? -1 : fault.bundle : what == 1 ? states.size() : looks;
+        if (what == 0) {
+            return fault == null ? -1 : fault.bundle;
+        }
+        if (what == 1 || what == 2) {
+            return what == 1 ? states.size() : looks;
         }
         if (what >= 8 && what < 32 && states.containsKey(what - 8)) {
             return states.get(what - 8).filled;
@@ -460,6 +463,7 @@ final class Model {
         if (what == 0) {
             return functions.size();
         }
-        return what >= 8 && what - 8 < functions.size() ? functions.get(what - 8).bundles.size() : -1;
+        boolean isFunction = what >= 8 && what - 8 < functions.size();
+        return isFunction ? functions.get(what - 8).bundles.size() : -1;
     }
 }

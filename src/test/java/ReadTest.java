@@ -16,14 +16,8 @@ public final class ReadTest {
         due.end();
     }
 
-    private static BeltMachine machine(int arguments, int results) {
-        BeltMachine m = new BeltMachine();
-        m.function(arguments, results);
-        return m;
-    }
-
     private static void belts() {
-        BeltMachine m = machine(2, 0);
+        BeltMachine m = Asm.machine(2, 0);
         Asm.bundle(m, 0, Asm.constant(1), Asm.constant(2), Asm.constant(3), Asm.constant(4));
         Asm.bundle(m, 0, Asm.constant(5), Asm.constant(6), Asm.constant(7));
         Asm.bundle(m, 0, Asm.giveBack());
@@ -48,7 +42,7 @@ public final class ReadTest {
     }
 
     private static void beltOfTheFrameOnTop() {
-        BeltMachine m = machine(2, 0);
+        BeltMachine m = Asm.machine(2, 0);
         m.function(1, 0);
         Asm.bundle(m, 0, Asm.call(1, 1));
         Asm.bundle(m, 0, Asm.giveBack());
@@ -63,7 +57,7 @@ public final class ReadTest {
     }
 
     private static void beltAtATrap() {
-        BeltMachine m = machine(2, 0);
+        BeltMachine m = Asm.machine(2, 0);
         Asm.bundle(m, 0, Asm.constant(1), Asm.fill(0));
         m.force(0, 4, 5);
         due.same("9: trap", m.run(1), 2);
@@ -74,7 +68,7 @@ public final class ReadTest {
 
     private static void results() {
         for (int count = 0; count <= 3; count++) {
-            BeltMachine m = machine(3, count);
+            BeltMachine m = Asm.machine(3, count);
             int[] positions = {2, 0, 1};
             Asm.bundle(m, 0, Asm.giveBack(java.util.Arrays.copyOf(positions, count)));
             m.start(0, 4, 5);
@@ -92,7 +86,7 @@ public final class ReadTest {
     }
 
     private static void resultsOnlyOfAReturn() {
-        BeltMachine m = machine(1, 1);
+        BeltMachine m = Asm.machine(1, 1);
         m.function(1, 1);
         Asm.bundle(m, 0, Asm.call(1, 0));
         Asm.bundle(m, 0, Asm.divide(0, 0));
@@ -117,7 +111,7 @@ public final class ReadTest {
     }
 
     private static void scratchCells() {
-        BeltMachine m = machine(2, 0);
+        BeltMachine m = Asm.machine(2, 0);
         Asm.bundle(m, 0, Asm.spill(0, 0), Asm.spill(1, 7));
         Asm.bundle(m, 0, Asm.spill(1, 0));
         Asm.bundle(m, 0, Asm.giveBack());
@@ -144,7 +138,7 @@ public final class ReadTest {
     }
 
     private static void scratchAtATrap() {
-        BeltMachine m = machine(1, 0);
+        BeltMachine m = Asm.machine(1, 0);
         Asm.bundle(m, 0, Asm.spill(0, 4), Asm.add(0, 1));
         m.force(0, 6, 0);
         due.same("9: trap", m.run(1), 2);
@@ -169,7 +163,7 @@ public final class ReadTest {
     }
 
     private static void cellsAndRuns() {
-        BeltMachine m = machine(2, 1);
+        BeltMachine m = Asm.machine(2, 1);
         Asm.bundle(m, 0, Asm.store(0, 1));
         Asm.bundle(m, 0, Asm.load(0));
         Asm.pause(m, 0, 1);

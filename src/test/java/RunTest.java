@@ -5,6 +5,8 @@ public final class RunTest {
     public static void main(String[] args) {
         startArguments();
         startSoundness();
+        startSoundnessOfEachCallee();
+        startAfterCalls();
         startAnew();
         forceInputs();
         runInputs();
@@ -33,12 +35,6 @@ public final class RunTest {
         due.end();
     }
 
-    private static BeltMachine machine(int arguments, int results) {
-        BeltMachine m = new BeltMachine();
-        m.function(arguments, results);
-        return m;
-    }
-
     /** Runs to the end, which must be a RETURN, and answers result 0. */
     private static long outcome(BeltMachine m, long first, long second) {
         m.force(0, first, second);
@@ -64,7 +60,7 @@ public final class RunTest {
     private static void startArguments() {
         long[][] belts = {{}, {-5}, {-5, 1L << 40}, {-5, 1L << 40, 0}, {-5, 1L << 40, 0, 0}};
         for (int arguments = 0; arguments <= 4; arguments++) {
-            BeltMachine m = machine(arguments, 0);
+            BeltMachine m = Asm.machine(arguments, 0);
             Asm.bundle(m, 0, Asm.giveBack());
             m.start(0, -5, 1L << 40);
             belt("7: arguments", m, belts[arguments]);
@@ -74,7 +70,7 @@ public final class RunTest {
     }
 
     private static void startSoundness() {
-        BeltMachine m = machine(0, 0);
+        BeltMachine m = Asm.machine(0, 0);
         m.function(0, 0);
         m.function(0, 0);
         m.function(0, 0);
@@ -101,8 +97,48 @@ public final class RunTest {
         due.same("7: the run that was", m.state(1), 2);
     }
 
+    private static void startSoundnessOfEachCallee() {
+        for (int unsound = 1; unsound <= 3; unsound++) {
+            BeltMachine m = Asm.machine(0, 0);
+            for (int f = 1; f <= 3; f++) {
+                m.function(0, 0);
+                Asm.bundle(m, f, f == unsound ? Asm.fill(0) : Asm.giveBack());
+                Asm.bundle(m, 0, Asm.call(f));
+            }
+            Asm.bundle(m, 0, Asm.giveBack());
+            due.same("5: the caller by itself", m.check(0), 0);
+            due.illegalState("7: callee " + unsound, () -> m.start(0, 0, 0));
+        }
+        BeltMachine chain = Asm.machine(0, 0);
+        for (int f = 1; f < 8; f++) {
+            chain.function(0, 0);
+        }
+        int[] order = {0, 7, 3, 6, 1, 5, 2, 4};
+        for (int i = 0; i < 7; i++) {
+            Asm.bundle(chain, order[i], Asm.call(order[i + 1]));
+            Asm.bundle(chain, order[i], Asm.giveBack());
+        }
+        due.illegalState("7: the last of eight", () -> chain.start(0, 0, 0));
+        Asm.bundle(chain, 4, Asm.giveBack());
+        chain.start(0, 0, 0);
+        due.same("9: all eight", chain.run(100), 1);
+        due.same("10: frames", chain.state(6), 8);
+    }
+
+    private static void startAfterCalls() {
+        BeltMachine m = Asm.machine(4, 0);
+        Asm.bundle(m, 0, Asm.add(0, 1), Asm.add(0, 1));
+        Asm.bundle(m, 0, Asm.call(0, 0, 0, 0, 0));
+        m.force(0, 5, 6);
+        m.run(4);
+        due.same("10: most frames", m.state(6), 3);
+        m.force(0, 7, 8);
+        due.same("10: most frames of the new run", m.state(6), 1);
+        belt("7: others are 0", m, 7, 8, 0, 0);
+    }
+
     private static void startAnew() {
-        BeltMachine m = machine(1, 1);
+        BeltMachine m = Asm.machine(1, 1);
         Asm.bundle(m, 0, Asm.spill(0, 0), Asm.divide(0, 0));
         Asm.pause(m, 0, 3);
         Asm.bundle(m, 0, Asm.giveBack(0));
@@ -141,7 +177,7 @@ public final class RunTest {
     }
 
     private static void runInputs() {
-        BeltMachine m = machine(0, 0);
+        BeltMachine m = Asm.machine(0, 0);
         Asm.bundle(m, 0, Asm.jump(0));
         due.illegalArgument("9: 0 told first", () -> m.run(0));
         due.illegalState("9: no start", () -> m.run(1));
@@ -158,7 +194,7 @@ public final class RunTest {
     }
 
     private static void runCycles() {
-        BeltMachine m = machine(0, 0);
+        BeltMachine m = Asm.machine(0, 0);
         Asm.pause(m, 0, 3);
         Asm.bundle(m, 0, Asm.giveBack());
         m.start(0, 0, 0);
@@ -170,7 +206,7 @@ public final class RunTest {
     }
 
     private static long of(int[] operation, long first, long second) {
-        BeltMachine m = machine(2, 1);
+        BeltMachine m = Asm.machine(2, 1);
         Asm.bundle(m, 0, operation);
         Asm.pause(m, 0, 3);
         Asm.bundle(m, 0, Asm.giveBack(0));
@@ -204,13 +240,10 @@ public final class RunTest {
     }
 
     private static void latencies() {
-        int[][] operations = {
-            Asm.constant(3), Asm.add(0, 1), Asm.subtract(0, 1), Asm.less(0, 1), Asm.same(0, 1),
-            Asm.multiply(0, 1), Asm.divide(0, 1), Asm.load(0), Asm.store(0, 1), Asm.spill(0, 1),
-        };
-        int[] latency = {1, 1, 1, 1, 1, 3, 4, 2, 0, 0};
+        int[][] operations = Asm.withTwoArguments();
+        int[] latency = Asm.LATENCIES;
         for (int i = 0; i < operations.length; i++) {
-            BeltMachine m = machine(2, 0);
+            BeltMachine m = Asm.machine(2, 0);
             Asm.bundle(m, 0, operations[i]);
             Asm.pause(m, 0, 4);
             m.force(0, 4, 2);
@@ -221,7 +254,7 @@ public final class RunTest {
                 due.same("where the argument is, code " + i, m.belt(landed ? 1 : 0), 4);
             }
         }
-        BeltMachine m = machine(1, 0);
+        BeltMachine m = Asm.machine(1, 0);
         Asm.bundle(m, 0, Asm.spill(0, 4), Asm.fill(4));
         m.force(0, 9, 0);
         m.run(1);
@@ -229,7 +262,7 @@ public final class RunTest {
     }
 
     private static void dropOrder() {
-        BeltMachine m = machine(2, 0);
+        BeltMachine m = Asm.machine(2, 0);
         Asm.bundle(m, 0, Asm.divide(0, 1), Asm.multiply(0, 1));
         Asm.bundle(m, 0, Asm.multiply(0, 0));
         Asm.bundle(m, 0, Asm.load(1));
@@ -241,13 +274,13 @@ public final class RunTest {
         m.run(1);
         belt("in the order of issue", m, 2, 1, 55, 100, 5, 20, 10, 2);
         due.same("none in flight", m.state(4), 0);
-        BeltMachine full = machine(4, 0);
+        BeltMachine full = Asm.machine(4, 0);
         Asm.bundle(full, 0, Asm.constant(1), Asm.constant(2), Asm.constant(3), Asm.constant(4));
         Asm.bundle(full, 0, Asm.constant(5), Asm.constant(6));
         full.force(0, 10, 11);
         full.run(2);
         belt("what was at 7 is gone", full, 6, 5, 4, 3, 2, 1, 10, 11);
-        BeltMachine many = machine(1, 0);
+        BeltMachine many = Asm.machine(1, 0);
         int[] slow = Asm.divide(0, 0);
         for (int i = 0; i < 5; i++) {
             Asm.bundle(many, 0, slow, slow, slow, slow);
@@ -261,7 +294,7 @@ public final class RunTest {
     }
 
     private static void beltAsAtTheBeginning() {
-        BeltMachine m = machine(2, 2);
+        BeltMachine m = Asm.machine(2, 2);
         Asm.bundle(m, 0, Asm.constant(7), Asm.add(0, 1), Asm.add(0, 0), Asm.branch(0, 2, 1));
         Asm.bundle(m, 0);
         Asm.bundle(m, 0, Asm.giveBack(0, 3));
@@ -274,7 +307,7 @@ public final class RunTest {
     }
 
     private static void worksAtOnce() {
-        BeltMachine m = machine(2, 0);
+        BeltMachine m = Asm.machine(2, 0);
         Asm.bundle(m, 0, Asm.load(0), Asm.store(0, 1), Asm.load(0));
         Asm.bundle(m, 0, Asm.spill(0, 2), Asm.fill(2), Asm.spill(1, 2), Asm.fill(2));
         m.setCell(3, 100);
@@ -288,16 +321,8 @@ public final class RunTest {
     }
 
     private static void emptyPositionTraps() {
-        int[][] empty = {
-            Asm.add(0, 2), Asm.add(2, 0), Asm.subtract(0, 2), Asm.subtract(2, 0), Asm.less(0, 2),
-            Asm.less(2, 0), Asm.same(0, 2), Asm.same(2, 0), Asm.multiply(0, 2), Asm.multiply(2, 0),
-            Asm.divide(0, 2), Asm.divide(2, 0), Asm.load(2), Asm.store(0, 2), Asm.store(2, 0),
-            Asm.spill(2, 0), Asm.branch(2, 0), Asm.branch(0, 0, 1, 2), Asm.jump(0, 2),
-            Asm.jump(0, 0, 1, 0, 1, 0, 1, 0, 2), Asm.call(0, 0, 2), Asm.call(0, 2, 0),
-            Asm.giveBack(0, 2), Asm.giveBack(2, 0),
-        };
-        for (int[] operation : empty) {
-            BeltMachine m = machine(2, 2);
+        for (int[] operation : Asm.namingPosition2()) {
+            BeltMachine m = Asm.machine(2, 2);
             Asm.bundle(m, 0);
             Asm.bundle(m, 0, Asm.constant(1), operation);
             m.force(0, 1, 1);
@@ -307,22 +332,22 @@ public final class RunTest {
             due.same(what + ": what was issued ahead", m.state(4), 1);
             belt(what, m, 1, 1);
         }
-        BeltMachine stays = machine(2, 2);
+        BeltMachine stays = Asm.machine(2, 2);
         Asm.bundle(stays, 0, Asm.branch(0, 0, 7));
         stays.force(0, 0, 0);
         trap("9: a branch that would not go names it too", stays, 1, 1);
     }
 
     private static void emptyAheadOfOthers() {
-        BeltMachine store = machine(1, 0);
+        BeltMachine store = Asm.machine(1, 0);
         Asm.bundle(store, 0, Asm.store(0, 1));
         store.force(0, 99, 0);
         trap("9: TRAP 1 ahead of 3", store, 1, 1);
-        BeltMachine giveBack = machine(1, 1);
+        BeltMachine giveBack = Asm.machine(1, 1);
         Asm.bundle(giveBack, 0, Asm.constant(1), Asm.giveBack(1));
         giveBack.force(0, 0, 0);
         trap("9: TRAP 1 ahead of 7", giveBack, 1, 1);
-        BeltMachine call = machine(1, 0);
+        BeltMachine call = Asm.machine(1, 0);
         Asm.bundle(call, 0, Asm.constant(-1), Asm.branch(0, 2, 0));
         Asm.bundle(call, 0, Asm.call(0, 7));
         Asm.bundle(call, 0, Asm.add(0, 1));
@@ -330,14 +355,14 @@ public final class RunTest {
         call.force(0, 15, 0);
         trap("9: TRAP 1 ahead of 4", call, 15 * 3 + 2, 1);
         due.same("10: there were 16", call.state(3), 16);
-        BeltMachine order = machine(1, 0);
+        BeltMachine order = Asm.machine(1, 0);
         Asm.bundle(order, 0, Asm.divide(0, 0), Asm.add(7, 7));
         order.force(0, 0, 0);
         trap("9: the operation ahead traps", order, 1, 2);
     }
 
     private static void divisionTrap() {
-        BeltMachine m = machine(2, 0);
+        BeltMachine m = Asm.machine(2, 0);
         Asm.bundle(m, 0, Asm.spill(1, 6), Asm.store(1, 0), Asm.divide(0, 1), Asm.store(0, 0));
         m.force(0, 4, 0);
         trap("9: by 0", m, 1, 2);
@@ -351,18 +376,18 @@ public final class RunTest {
     private static void memoryTraps() {
         long[] wrong = {-1, 16, 1L << 32, Long.MIN_VALUE, Long.MAX_VALUE};
         for (long cell : wrong) {
-            BeltMachine load = machine(2, 0);
+            BeltMachine load = Asm.machine(2, 0);
             Asm.bundle(load, 0, Asm.load(0));
             load.force(0, cell, 5);
             trap("9: LOAD of " + cell, load, 1, 3);
-            BeltMachine store = machine(2, 0);
+            BeltMachine store = Asm.machine(2, 0);
             Asm.bundle(store, 0, Asm.store(0, 1));
             store.force(0, cell, 5);
             trap("9: STORE to " + cell, store, 1, 3);
             due.same("9: nothing stored", store.cell(0), 0);
         }
         for (int cell = 0; cell < 16; cell++) {
-            BeltMachine m = machine(2, 1);
+            BeltMachine m = Asm.machine(2, 1);
             Asm.bundle(m, 0, Asm.store(0, 1), Asm.load(0));
             Asm.pause(m, 0, 1);
             Asm.bundle(m, 0, Asm.giveBack(0));
@@ -372,7 +397,7 @@ public final class RunTest {
     }
 
     private static void fillTrap() {
-        BeltMachine m = machine(1, 0);
+        BeltMachine m = Asm.machine(1, 0);
         Asm.bundle(m, 0, Asm.spill(0, 3), Asm.fill(3), Asm.fill(2));
         m.force(0, 5, 0);
         trap("9: nothing was spilled", m, 1, 5);
@@ -380,7 +405,7 @@ public final class RunTest {
     }
 
     private static void missingBundleTraps() {
-        BeltMachine m = machine(1, 0);
+        BeltMachine m = Asm.machine(1, 0);
         m.force(0, 5, 0);
         trap("9: no bundle at all", m, 1, 6);
         due.same("10: bundle", m.state(2), 0);
@@ -393,7 +418,7 @@ public final class RunTest {
         due.same("10: bundle", m.state(2), 23);
         due.same("10: in flight", m.state(4), 1);
         belt("9: the belt", m, 5);
-        BeltMachine last = machine(0, 0);
+        BeltMachine last = Asm.machine(0, 0);
         Asm.pause(last, 0, 24);
         last.force(0, 0, 0);
         due.same("9: goes on till then", last.run(24), 0);
@@ -402,18 +427,18 @@ public final class RunTest {
     }
 
     private static void returnTrap() {
-        BeltMachine m = machine(1, 1);
+        BeltMachine m = Asm.machine(1, 1);
         Asm.bundle(m, 0, Asm.constant(1), Asm.giveBack(0));
         m.force(0, 5, 0);
         trap("9: its own result in flight", m, 1, 7);
         due.noElement("12: no result", () -> m.result(0));
         due.same("10: frames", m.state(3), 1);
-        BeltMachine load = machine(1, 1);
+        BeltMachine load = Asm.machine(1, 1);
         Asm.bundle(load, 0, Asm.load(0));
         Asm.bundle(load, 0, Asm.giveBack(0));
         load.force(0, 5, 0);
         trap("9: in flight in its last cycle", load, 2, 7);
-        BeltMachine caller = machine(0, 1);
+        BeltMachine caller = Asm.machine(0, 1);
         caller.function(0, 1);
         Asm.bundle(caller, 0, Asm.constant(4), Asm.call(1));
         Asm.bundle(caller, 0, Asm.giveBack(1));
@@ -423,7 +448,7 @@ public final class RunTest {
     }
 
     private static void frameTrap() {
-        BeltMachine m = machine(0, 0);
+        BeltMachine m = Asm.machine(0, 0);
         Asm.bundle(m, 0, Asm.constant(1), Asm.constant(2), Asm.call(0));
         Asm.bundle(m, 0, Asm.giveBack());
         m.start(0, 0, 0);
@@ -437,7 +462,7 @@ public final class RunTest {
     }
 
     private static void branches() {
-        BeltMachine m = machine(4, 3);
+        BeltMachine m = Asm.machine(4, 3);
         Asm.bundle(m, 0, Asm.branch(1, 2, 1, 0, 1));
         Asm.bundle(m, 0, Asm.giveBack(0, 1, 3));
         Asm.bundle(m, 0, Asm.giveBack(0, 1, 2));
@@ -452,19 +477,19 @@ public final class RunTest {
         m.start(0, 7, 1L << 32);
         m.run(1);
         due.same("9: it looks at the whole value", m.state(2), 2);
-        BeltMachine jump = machine(4, 0);
+        BeltMachine jump = Asm.machine(4, 0);
         Asm.bundle(jump, 0, Asm.jump(0, 3, 2, 1, 0));
         jump.force(0, 7, 8);
         jump.run(1);
         belt("9: a jump", jump, 0, 0, 8, 7);
         jump.run(1);
         belt("9: a jump again", jump, 7, 8, 0, 0);
-        BeltMachine eight = machine(1, 0);
+        BeltMachine eight = Asm.machine(1, 0);
         Asm.bundle(eight, 0, Asm.constant(3), Asm.jump(1, 0, 0, 0, 0, 0, 0, 0, 0));
         eight.force(0, 7, 0);
         eight.run(1);
         belt("9: eight kept, one dropped", eight, 3, 7, 7, 7, 7, 7, 7, 7);
-        BeltMachine none = machine(4, 0);
+        BeltMachine none = Asm.machine(4, 0);
         Asm.bundle(none, 0, Asm.jump(1));
         none.force(0, 7, 0);
         none.run(1);
@@ -472,7 +497,7 @@ public final class RunTest {
     }
 
     private static void branchKeepsFlights() {
-        BeltMachine m = machine(2, 0);
+        BeltMachine m = Asm.machine(2, 0);
         Asm.bundle(m, 0, Asm.multiply(0, 1), Asm.constant(1), Asm.jump(3));
         Asm.pause(m, 0, 4);
         m.force(0, 6, 7);
@@ -484,7 +509,7 @@ public final class RunTest {
     }
 
     private static void calls() {
-        BeltMachine m = machine(2, 1);
+        BeltMachine m = Asm.machine(2, 1);
         m.function(3, 1);
         Asm.bundle(m, 0, Asm.constant(5), Asm.call(1, 1, 0, 1));
         Asm.bundle(m, 0, Asm.giveBack(0));
@@ -509,7 +534,7 @@ public final class RunTest {
     }
 
     private static void callerWaits() {
-        BeltMachine m = machine(2, 0);
+        BeltMachine m = Asm.machine(2, 0);
         m.function(0, 0);
         Asm.bundle(m, 0, Asm.multiply(0, 1), Asm.call(1));
         Asm.pause(m, 0, 3);
@@ -530,7 +555,7 @@ public final class RunTest {
     }
 
     private static void resultOrder() {
-        BeltMachine m = machine(1, 3);
+        BeltMachine m = Asm.machine(1, 3);
         m.function(3, 3);
         Asm.bundle(m, 0, Asm.constant(8), Asm.constant(9));
         Asm.bundle(m, 0, Asm.constant(1), Asm.call(1, 0, 1, 2));
@@ -546,7 +571,7 @@ public final class RunTest {
     }
 
     private static void framesAreNew() {
-        BeltMachine m = machine(1, 0);
+        BeltMachine m = Asm.machine(1, 0);
         m.function(1, 0);
         Asm.bundle(m, 0, Asm.spill(0, 1), Asm.call(1, 0));
         Asm.bundle(m, 0, Asm.call(1, 0));
@@ -568,7 +593,7 @@ public final class RunTest {
     }
 
     private static void codeGrowsInARun() {
-        BeltMachine m = machine(1, 1);
+        BeltMachine m = Asm.machine(1, 1);
         Asm.bundle(m, 0, Asm.add(0, 0));
         m.force(0, 4, 0);
         m.run(1);
@@ -578,7 +603,7 @@ public final class RunTest {
     }
 
     private static void stateOfARun() {
-        BeltMachine m = machine(0, 0);
+        BeltMachine m = Asm.machine(0, 0);
         m.function(1, 1);
         Asm.bundle(m, 1, Asm.multiply(0, 0), Asm.constant(3));
         Asm.pause(m, 1, 2);
