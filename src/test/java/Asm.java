@@ -3,6 +3,9 @@ final class Asm {
     /** Stands where the document says that a thing is not looked at. */
     static final int ODD = -77;
 
+    /** Numbers that are too small or too large for whatever has a place, a number or a cell. */
+    static final int[] FAR = {Integer.MIN_VALUE, -1, 24, 32, 1 << 30, Integer.MAX_VALUE};
+
     private Asm() {
     }
 
@@ -103,6 +106,27 @@ final class Asm {
         return m;
     }
 
+    /** A machine with function 0, which has these operations in bundle 0. */
+    static BeltMachine program(int arguments, int results, int[]... operations) {
+        BeltMachine m = machine(arguments, results);
+        bundle(m, 0, operations);
+        return m;
+    }
+
+    /** Functions 0 and 1, without bundles: the first one may call the second. */
+    static BeltMachine pair(int arguments, int results, int ofCallee, int resultsOfCallee) {
+        BeltMachine m = machine(arguments, results);
+        m.function(ofCallee, resultsOfCallee);
+        return m;
+    }
+
+    /** Function 0 whose belt is full behind two cycles: the value at position i is 8 - i. */
+    static BeltMachine fullBelt(int results) {
+        BeltMachine m = program(0, results, constant(1), constant(2), constant(3), constant(4));
+        bundle(m, 0, constant(5), constant(6), constant(7), constant(8));
+        return m;
+    }
+
     static void bundle(BeltMachine m, int function, int[]... operations) {
         m.bundle(function);
         for (int[] o : operations) {
@@ -114,6 +138,14 @@ final class Asm {
     static void pause(BeltMachine m, int function, int cycles) {
         for (int i = 0; i < cycles; i++) {
             m.bundle(function);
+        }
+    }
+
+    /** Begins a run of function 0, without a check, and goes on for some cycles. */
+    static void go(BeltMachine m, long first, long second, int cycles) {
+        m.force(0, first, second);
+        if (cycles > 0) {
+            m.run(cycles);
         }
     }
 }

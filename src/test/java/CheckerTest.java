@@ -1,219 +1,505 @@
-/** Promises 5 and 6: what the checker answers, and what it tells of its latest look. */
+/** The term THE CHECKER: the states of the bundles, the faults, and the order of looks. */
 public final class CheckerTest {
     private static final Due due = new Due();
 
     public static void main(String[] args) {
-        wrongInputs();
-        noBundles();
-        emptyPositions();
-        allNamedPositions();
-        latencies();
-        flightsInOrder();
-        beltOfEight();
-        spilledForSure();
-        missingBundles();
-        returnInFlight();
-        otherStates();
-        faultOrder();
-        branchAndJump();
-        calls();
-        leastBundleFirst();
-        unreachedBundles();
-        statesAtAFault();
-        latestCheckCounts();
-        nothingOfAnEarlierCheck();
-        whatOutOfRange();
+        due.sentence("THE CHECKER looks at the code of a function", CheckerTest::codeAlone);
+        due.sentence("a STATE of a bundle is how many positions are not EMPTY",
+                CheckerTest::filledPositions);
+        due.sentence("which results are in flight (for how many more cycles each, in the order of "
+                + "issue)", CheckerTest::flights);
+        due.sentence("and which scratch cells are spilled for sure.", CheckerTest::spilledCells);
+        due.sentence("Bundle 0 has as many as there are arguments, and nothing else.",
+                CheckerTest::bundleZero);
+        due.sentence("Always the least bundle that is to be looked at is looked at (first bundle 0)",
+                CheckerTest::leastFirst);
+        due.sentence("the FAULTS: 1 a position that is EMPTY", CheckerTest::emptyPosition);
+        due.sentence("5 a FILL of a cell that is not spilled for sure", CheckerTest::notForSure);
+        due.sentence("6 a bundle that there is not (told of the bundle that would go on there",
+                CheckerTest::noSuchBundle);
+        due.sentence("6 of bundle 0, if there is none at all)", CheckerTest::noBundles);
+        due.sentence("7 a RETURN with something in flight", CheckerTest::returnInFlight);
+        due.sentence("8 a bundle that gets a state with another number of positions",
+                CheckerTest::otherPositions);
+        due.sentence("or other flights than it has", CheckerTest::otherFlights);
+        due.sentence("(told of that one).", CheckerTest::toldOfThatOne);
+        due.sentence("In the order of operations", CheckerTest::orderOfOperations);
+        due.sentence("of one operation as above", CheckerTest::orderInOneOperation);
+        due.sentence("then the next bundles", CheckerTest::operationsAheadOfNext);
+        due.sentence("the one behind this (not of JUMP, RETURN)", CheckerTest::behind);
+        due.sentence("then that of a BRANCH or JUMP, get their states", CheckerTest::thenThatOfB);
+        due.sentence("one that has none has this, and is to be looked at", CheckerTest::hasThis);
+        due.sentence("one that has some keeps the scratch cells that both have",
+                CheckerTest::cellsOfBoth);
+        due.sentence("and is to be looked at if that is less.", CheckerTest::lookedAtAgain);
+        due.sentence("and is to be looked at if that is less.", CheckerTest::lookedAtFiveTimes);
+        due.sentence("A CALL drops as many as the function has results.", CheckerTest::calls);
+        due.sentence("(Bundles that nothing leads to have no state.)", CheckerTest::unreached);
         due.end();
     }
 
-    /** The fault of function 0 and the bundle it is told of. */
-    private static void fault(String what, BeltMachine m, int fault, int bundle) {
-        due.same(what + ": fault", m.check(0), fault);
-        due.same(what + ": bundle", m.checked(0), bundle);
+    private static void codeAlone() {
+        BeltMachine values = Asm.program(1, 0, Asm.constant(0), Asm.constant(99));
+        Asm.bundle(values, 0, Asm.divide(0, 1), Asm.load(0), Asm.store(0, 1), Asm.branch(1, 2));
+        Asm.pause(values, 0, 3);
+        Asm.bundle(values, 0, Asm.giveBack());
+        due.fault("a BRANCH on 0 may go", values, 8, 2);
+        BeltMachine cells = Asm.program(1, 0, Asm.constant(0), Asm.constant(99));
+        Asm.bundle(cells, 0, Asm.divide(0, 1), Asm.load(0), Asm.store(0, 1));
+        Asm.pause(cells, 0, 3);
+        Asm.bundle(cells, 0, Asm.giveBack());
+        due.sound("values don't count", cells);
+        BeltMachine endless = Asm.program(0, 0, Asm.call(0));
+        Asm.bundle(endless, 0, Asm.giveBack());
+        due.sound("frames don't count", endless);
+        BeltMachine callee = Asm.pair(0, 0, 0, 0);
+        Asm.bundle(callee, 0, Asm.call(1));
+        Asm.bundle(callee, 0, Asm.giveBack());
+        due.sound("what is called is not looked at", callee);
+        BeltMachine run = Asm.program(1, 0, Asm.spill(0, 0), Asm.constant(1));
+        Asm.bundle(run, 0, Asm.fill(1));
+        Asm.go(run, 3, 4, 1);
+        due.fault("nor is a run", run, 5, 1);
+        due.state("nor is a run", run, 0, 1, 0, 0);
     }
 
-    private static void state(String what, BeltMachine m, int bundle, int filled, int flights,
-            int scratch) {
-        due.same(what + ": positions of " + bundle, m.checked(8 + bundle), filled);
-        due.same(what + ": flights of " + bundle, m.checked(32 + bundle), flights);
-        due.same(what + ": scratch of " + bundle, m.checked(56 + bundle), scratch);
+    private static void filledPositions() {
+        BeltMachine m = Asm.machine(3, 0);
+        Asm.bundle(m, 0, Asm.constant(1), Asm.add(0, 1), Asm.store(0, 0), Asm.spill(0, 0));
+        Asm.bundle(m, 0, Asm.constant(1), Asm.less(0, 1));
+        Asm.bundle(m, 0, Asm.constant(1), Asm.constant(1));
+        Asm.bundle(m, 0, Asm.constant(1), Asm.jump(4, 7, 0));
+        Asm.bundle(m, 0, Asm.constant(1), Asm.jump(5, 0, 0, 0, 0, 0, 0, 0, 0));
+        Asm.bundle(m, 0, Asm.jump(6));
+        Asm.bundle(m, 0, Asm.giveBack());
+        due.sound("a program", m);
+        int[] filled = {3, 5, 7, 8, 3, 8, 0};
+        for (int i = 0; i < filled.length; i++) {
+            due.same("positions of " + i, m.checked(8 + i), filled[i]);
+        }
     }
 
-    private static void wrongInputs() {
-        BeltMachine m = new BeltMachine();
-        due.illegalArgument("5: no function", () -> m.check(0));
-        due.same("6: a check that threw is none", m.checked(1), -1);
-        m.function(0, 0);
-        due.illegalArgument("5: function -1", () -> m.check(-1));
-        due.illegalArgument("5: function 1", () -> m.check(1));
-        due.illegalArgument("5: function 8", () -> m.check(8));
+    private static void flights() {
+        int[][] operations = Asm.withTwoArguments();
+        for (int code = 0; code < operations.length; code++) {
+            int latency = Asm.LATENCIES[code];
+            BeltMachine m = Asm.program(2, 0, operations[code]);
+            Asm.pause(m, 0, 4);
+            Asm.bundle(m, 0, Asm.giveBack());
+            due.sound("code " + code, m);
+            for (int cycle = 1; cycle <= 5; cycle++) {
+                int landed = latency > 0 && cycle >= latency ? 1 : 0;
+                int flying = latency > cycle ? 1 : 0;
+                due.same("flights of code " + code, m.checked(32 + cycle), flying);
+                due.same("positions of code " + code, m.checked(8 + cycle), 2 + landed);
+            }
+        }
+        BeltMachine fill = Asm.program(1, 0, Asm.spill(0, 0), Asm.fill(0));
+        Asm.bundle(fill, 0, Asm.giveBack());
+        due.sound("FILL", fill);
+        due.state("FILL", fill, 1, 2, 0, 1);
+        manyFlights();
     }
 
-    private static void noBundles() {
-        BeltMachine m = Asm.machine(2, 0);
-        fault("5: no bundles", m, 6, 0);
-        due.same("6: no states", m.checked(1), 0);
-        due.same("6: no looks", m.checked(2), 0);
-        state("6: no bundles", m, 0, -1, -1, -1);
+    /** Sixteen are the most that can be in flight, and a belt has no more than 8 positions. */
+    private static void manyFlights() {
+        BeltMachine m = Asm.machine(1, 0);
+        int[] slow = Asm.divide(0, 0);
+        for (int i = 0; i < 6; i++) {
+            Asm.bundle(m, 0, slow, slow, slow, slow);
+        }
+        Asm.bundle(m, 0, slow, slow, slow, Asm.jump(7));
+        Asm.pause(m, 0, 3);
+        Asm.bundle(m, 0, Asm.giveBack());
+        due.sound("DIVIDEs", m);
+        int[] filled = {1, 1, 1, 1, 5, 8, 8, 4, 8, 8, 8};
+        int[] flights = {0, 4, 8, 12, 12, 12, 12, 11, 7, 3, 0};
+        for (int i = 0; i < filled.length; i++) {
+            due.state("DIVIDEs", m, i, filled[i], flights[i], 0);
+        }
     }
 
-    private static void emptyPositions() {
+    private static void spilledCells() {
+        BeltMachine m = Asm.program(1, 0, Asm.spill(0, 0), Asm.spill(0, 7), Asm.spill(0, 0));
+        Asm.bundle(m, 0, Asm.spill(0, 3), Asm.fill(3));
+        Asm.bundle(m, 0, Asm.fill(0), Asm.fill(7), Asm.jump(3));
+        Asm.bundle(m, 0, Asm.fill(3), Asm.call(0, 0));
+        Asm.bundle(m, 0, Asm.giveBack());
+        due.sound("a program", m);
+        int[] spilled = {0, 129, 137, 137, 137};
+        for (int i = 0; i < spilled.length; i++) {
+            due.same("scratch cells of " + i, m.checked(56 + i), spilled[i]);
+        }
+    }
+
+    private static void bundleZero() {
+        for (int arguments = 0; arguments <= 4; arguments++) {
+            BeltMachine m = Asm.program(arguments, 0, Asm.giveBack());
+            due.sound(arguments + " arguments", m);
+            due.state(arguments + " arguments", m, 0, arguments, 0, 0);
+        }
+        BeltMachine back = Asm.program(1, 0, Asm.spill(0, 2));
+        Asm.bundle(back, 0, Asm.spill(0, 3), Asm.jump(0, 0));
+        due.sound("one that is led to again", back);
+        due.state("one that is led to again", back, 0, 1, 0, 0);
+        due.looks("one that is led to again", back, 2, 2);
+        BeltMachine other = Asm.pair(1, 0, 3, 2);
+        Asm.bundle(other, 1, Asm.giveBack(0, 1));
+        due.same("another function", other.check(1), 0);
+        due.state("another function", other, 0, 3, 0, 0);
+    }
+
+    private static void leastFirst() {
+        BeltMachine m = Asm.program(1, 0, Asm.jump(3, 0));
+        Asm.bundle(m, 0, Asm.fill(0));
+        Asm.bundle(m, 0, Asm.giveBack());
+        Asm.bundle(m, 0, Asm.branch(0, 1, 0));
+        Asm.bundle(m, 0, Asm.add(7, 7));
+        due.fault("1 is looked at, then 4 would be", m, 5, 1);
+        due.looks("0, 3, 1", m, 4, 3);
+        due.noState("behind the fault", m, 2);
+        due.state("not looked at", m, 4, 1, 0, 0);
+        BeltMachine zero = Asm.program(1, 0, Asm.branch(0, 2, 0));
+        Asm.bundle(zero, 0, Asm.spill(0, 1), Asm.jump(3, 0));
+        Asm.bundle(zero, 0, Asm.fill(1));
+        Asm.bundle(zero, 0, Asm.fill(2));
+        due.fault("2 ahead of 3", zero, 5, 2);
+        due.looks("0, 1, 2", zero, 4, 3);
+        BeltMachine first = Asm.program(1, 0, Asm.fill(0), Asm.jump(1));
+        Asm.bundle(first, 0, Asm.add(7, 7));
+        due.fault("first bundle 0", first, 5, 0);
+        due.looks("first bundle 0", first, 1, 1);
+    }
+
+    private static void emptyPosition() {
+        for (int[] operation : Asm.namingPosition2()) {
+            BeltMachine m = Asm.program(2, 2, operation);
+            Asm.bundle(m, 0, Asm.giveBack(0, 1));
+            due.fault("code " + operation[0], m, 1, 0);
+            due.looks("code " + operation[0], m, 1, 1);
+            BeltMachine filled = Asm.program(2, 2, Asm.constant(1));
+            Asm.bundle(filled, 0, operation);
+            due.isTrue("where it is not EMPTY, code " + operation[0], filled.check(0) != 1);
+        }
         for (int arguments = 0; arguments <= 4; arguments++) {
             for (int position = 0; position < 8; position++) {
-                BeltMachine m = Asm.machine(arguments, 1);
-                Asm.bundle(m, 0, Asm.giveBack(position));
-                due.same("5: position " + position + " of " + arguments, m.check(0),
+                BeltMachine m = Asm.program(arguments, 1, Asm.giveBack(position));
+                due.same("position " + position + " of " + arguments, m.check(0),
                         position < arguments ? 0 : 1);
             }
         }
+        BeltMachine late = Asm.program(1, 0, Asm.constant(1), Asm.add(0, 1));
+        due.fault("a result is not there in its own cycle", late, 1, 0);
+        BeltMachine slow = Asm.program(1, 0, Asm.load(0));
+        Asm.bundle(slow, 0, Asm.spill(1, 0));
+        due.fault("nor is one that is in flight", slow, 1, 1);
+        BeltMachine full = Asm.fullBelt(1);
+        Asm.bundle(full, 0, Asm.giveBack(7));
+        due.sound("position 7 of a full belt", full);
+        BeltMachine none = Asm.program(0, 0, Asm.constant(9), Asm.constant(-9));
+        Asm.bundle(none, 0, Asm.giveBack());
+        due.sound("a CONSTANT names none", none);
     }
 
-    private static void allNamedPositions() {
-        for (int[] operation : Asm.namingPosition2()) {
-            BeltMachine m = Asm.machine(2, 2);
-            Asm.bundle(m, 0, operation);
-            fault("5: code " + operation[0] + " of a position that is empty", m, 1, 0);
+    private static void notForSure() {
+        for (int cell = 0; cell < 8; cell++) {
+            BeltMachine none = Asm.program(1, 0, Asm.fill(cell));
+            due.fault("nothing spilled", none, 5, 0);
+            BeltMachine others = Asm.program(1, 0, Asm.spill(0, cell + 1 & 7),
+                    Asm.spill(0, cell + 7 & 7));
+            Asm.bundle(others, 0, Asm.fill(cell));
+            due.fault("others spilled", others, 5, 1);
+            BeltMachine ahead = Asm.program(1, 0, Asm.spill(0, cell), Asm.fill(cell));
+            Asm.bundle(ahead, 0, Asm.giveBack());
+            due.sound("spilled ahead of it in the bundle", ahead);
         }
-        BeltMachine m = Asm.machine(0, 0);
-        Asm.bundle(m, 0, Asm.constant(9), Asm.constant(-9));
-        Asm.bundle(m, 0, Asm.giveBack());
-        fault("5: a constant names no position", m, 0, -1);
-        BeltMachine late = Asm.machine(1, 0);
-        Asm.bundle(late, 0, Asm.constant(1), Asm.add(0, 1));
-        fault("5: a result is not there in its own cycle", late, 1, 0);
+        BeltMachine behind = Asm.program(1, 0, Asm.fill(7), Asm.spill(0, 7));
+        due.fault("spilled behind it in the bundle", behind, 5, 0);
+        BeltMachine oneWay = Asm.program(1, 0, Asm.branch(0, 2, 0));
+        Asm.bundle(oneWay, 0, Asm.spill(0, 4));
+        Asm.bundle(oneWay, 0, Asm.fill(4));
+        Asm.bundle(oneWay, 0, Asm.giveBack());
+        due.fault("spilled on one way of two", oneWay, 5, 2);
+        BeltMachine callee = Asm.pair(1, 0, 1, 0);
+        Asm.bundle(callee, 1, Asm.spill(0, 0));
+        Asm.bundle(callee, 0, Asm.call(1, 0));
+        Asm.bundle(callee, 0, Asm.fill(0));
+        due.fault("spilled by a callee", callee, 5, 1);
     }
 
-    private static void latencies() {
-        int[][] operations = Asm.withTwoArguments();
-        int[] latency = Asm.LATENCIES;
+    private static void noSuchBundle() {
+        BeltMachine through = Asm.machine(1, 0);
+        Asm.pause(through, 0, 24);
+        due.fault("behind the 24th", through, 6, 23);
+        due.looks("behind the 24th", through, 24, 24);
+        BeltMachine jump = Asm.program(1, 0);
+        Asm.bundle(jump, 0, Asm.jump(3));
+        Asm.bundle(jump, 0, Asm.giveBack());
+        due.fault("a JUMP", jump, 6, 1);
+        due.looks("a JUMP", jump, 2, 2);
+        BeltMachine far = Asm.program(1, 0, Asm.jump(23));
+        due.fault("a JUMP to 23", far, 6, 0);
+        BeltMachine branch = Asm.program(1, 0, Asm.branch(0, 2));
+        Asm.bundle(branch, 0, Asm.giveBack());
+        due.fault("a BRANCH", branch, 6, 0);
+        BeltMachine last = Asm.program(1, 0, Asm.branch(0, 0, 0));
+        due.fault("behind a BRANCH", last, 6, 0);
+        BeltMachine call = Asm.program(1, 0);
+        Asm.bundle(call, 0, Asm.call(0, 0));
+        due.fault("behind a CALL", call, 6, 1);
+        Asm.bundle(call, 0, Asm.giveBack());
+        due.sound("there is one now", call);
+    }
+
+    private static void noBundles() {
+        for (int arguments = 0; arguments <= 4; arguments++) {
+            BeltMachine m = Asm.machine(arguments, 0);
+            due.fault("no bundles", m, 6, 0);
+            due.looks("no bundles", m, 0, 0);
+            due.noState("no bundles", m, 0);
+        }
+    }
+
+    private static void returnInFlight() {
+        int[][] operations = {Asm.constant(1), Asm.load(0), Asm.multiply(0, 0), Asm.divide(0, 0)};
         for (int i = 0; i < operations.length; i++) {
-            BeltMachine m = Asm.machine(2, 0);
-            Asm.bundle(m, 0, operations[i]);
-            Asm.pause(m, 0, 4);
-            Asm.bundle(m, 0, Asm.giveBack());
-            due.same("5: sound", m.check(0), 0);
-            for (int cycle = 1; cycle <= 5; cycle++) {
-                int landed = latency[i] > 0 && cycle >= latency[i] ? 1 : 0;
-                int flying = latency[i] > cycle ? 1 : 0;
-                state("6: code " + i, m, cycle, 2 + landed, flying, i == 9 ? 2 : 0);
+            for (int cycles = 0; cycles <= 4; cycles++) {
+                BeltMachine m = Asm.program(1, 1, operations[i]);
+                Asm.pause(m, 0, cycles);
+                Asm.bundle(m, 0, Asm.giveBack(0));
+                due.fault(cycles + " behind code " + operations[i][0], m,
+                        cycles < i ? 7 : 0, cycles < i ? cycles + 1 : -1);
             }
         }
+        BeltMachine own = Asm.program(1, 1, Asm.constant(1), Asm.giveBack(0));
+        due.fault("a result of the bundle itself", own, 7, 0);
+        BeltMachine none = Asm.program(1, 1, Asm.store(0, 0), Asm.spill(0, 0), Asm.giveBack(0));
+        due.sound("STORE and SPILL have no result", none);
+        BeltMachine jump = Asm.program(1, 0, Asm.load(0), Asm.jump(2));
+        Asm.pause(jump, 0, 1);
+        Asm.bundle(jump, 0, Asm.giveBack());
+        due.fault("flights go on behind a JUMP", jump, 7, 2);
     }
 
-    private static void flightsInOrder() {
-        BeltMachine later = Asm.machine(1, 0);
-        Asm.bundle(later, 0, Asm.divide(0, 0));
-        Asm.bundle(later, 0, Asm.jump(1, 0));
-        fault("5: the same flight a cycle later", later, 8, 1);
-        BeltMachine other = Asm.machine(2, 0);
-        Asm.bundle(other, 0, Asm.branch(0, 2, 0, 1));
-        Asm.bundle(other, 0, Asm.divide(0, 0), Asm.multiply(0, 0), Asm.jump(3, 0));
-        Asm.bundle(other, 0, Asm.multiply(0, 0), Asm.divide(0, 0), Asm.jump(3, 0));
-        Asm.pause(other, 0, 3);
-        Asm.bundle(other, 0, Asm.giveBack());
-        fault("5: the same flights in another order", other, 8, 3);
-        due.same("6: looks till then", other.checked(2), 3);
-        BeltMachine alike = Asm.machine(2, 0);
-        Asm.bundle(alike, 0, Asm.branch(0, 2, 0, 1));
-        Asm.bundle(alike, 0, Asm.divide(0, 0), Asm.multiply(0, 0), Asm.jump(3, 0));
-        Asm.bundle(alike, 0, Asm.divide(1, 0), Asm.constant(4), Asm.multiply(1, 1), Asm.jump(3));
-        Asm.pause(alike, 0, 3);
-        Asm.bundle(alike, 0, Asm.giveBack());
-        fault("5: the same flights", alike, 0, -1);
-        state("6: the same flights", alike, 3, 1, 2, 0);
-        state("6: the same flights", alike, 4, 1, 2, 0);
-        state("6: the same flights", alike, 5, 2, 1, 0);
-        state("6: the same flights", alike, 6, 3, 0, 0);
-    }
-
-    private static void beltOfEight() {
-        BeltMachine m = Asm.machine(0, 0);
-        int[] one = Asm.constant(1);
-        int[] slow = Asm.divide(7, 7);
-        Asm.bundle(m, 0, one, one, one);
-        Asm.bundle(m, 0, one, one, one, one);
-        Asm.bundle(m, 0, one, one, one, one);
-        Asm.bundle(m, 0, Asm.branch(7, 2, 0, 1, 2, 3, 4, 5, 6));
-        for (int i = 4; i < 8; i++) {
-            Asm.bundle(m, 0, slow, slow, slow, slow);
+    private static void otherPositions() {
+        for (int kept = 0; kept <= 8; kept++) {
+            BeltMachine m = Asm.program(3, 0, Asm.branch(0, 2, new int[kept]));
+            Asm.pause(m, 0, 1);
+            Asm.bundle(m, 0, Asm.giveBack());
+            due.fault("3 and " + kept, m, kept == 3 ? 0 : 8, kept == 3 ? -1 : 2);
+            due.same("it keeps what it has", m.checked(10), kept);
         }
-        Asm.bundle(m, 0, slow, slow, slow, Asm.jump(9));
+        BeltMachine grows = Asm.program(0, 0, Asm.constant(1), Asm.jump(0));
+        due.fault("a loop whose belt grows", grows, 8, 0);
+        BeltMachine full = Asm.fullBelt(0);
+        Asm.bundle(full, 0, Asm.constant(1), Asm.branch(0, 2, 0, 1, 2, 3, 4, 5, 6, 7));
+        Asm.bundle(full, 0, Asm.giveBack());
+        due.sound("a full belt does not grow", full);
+    }
+
+    private static void otherFlights() {
+        BeltMachine more = Asm.program(1, 0, Asm.branch(0, 2, 0));
+        Asm.bundle(more, 0, Asm.load(0));
+        Asm.bundle(more, 0, Asm.jump(2, 0));
+        due.fault("one more", more, 8, 2);
+        due.same("it keeps what it has", more.checked(34), 0);
+        BeltMachine later = Asm.program(1, 0, Asm.divide(0, 0));
+        Asm.bundle(later, 0, Asm.jump(1, 0));
+        due.fault("the same one a cycle later", later, 8, 1);
+        due.fault("in another order", inOrder(true), 8, 3);
+        due.fault("in the same order", inOrder(false), 0, -1);
+        BeltMachine alike = Asm.program(1, 0, Asm.multiply(0, 0), Asm.branch(0, 3, 0));
+        Asm.pause(alike, 0, 1);
+        Asm.bundle(alike, 0, Asm.multiply(0, 0), Asm.jump(3));
+        Asm.pause(alike, 0, 2);
+        Asm.bundle(alike, 0, Asm.giveBack());
+        due.sound("as many, as long each, from two", alike);
+        due.state("as many, as long each, from two", alike, 3, 1, 1, 0);
+    }
+
+    /** Two ways to bundle 3, with a DIVIDE and a MULTIPLY in flight on each. */
+    private static BeltMachine inOrder(boolean turned) {
+        int[] divide = Asm.divide(0, 0);
+        int[] multiply = Asm.multiply(0, 0);
+        BeltMachine m = Asm.program(1, 0, Asm.branch(0, 2, 0));
+        Asm.bundle(m, 0, divide, multiply, Asm.jump(3, 0));
+        Asm.bundle(m, 0, turned ? multiply : divide, turned ? divide : multiply);
         Asm.pause(m, 0, 3);
         Asm.bundle(m, 0, Asm.giveBack());
-        fault("5: a full belt", m, 0, -1);
-        int[] filled = {0, 3, 7, 8, 8, 8, 8, 8, 8, 4, 8, 8, 8};
-        int[] flights = {0, 0, 0, 0, 0, 4, 8, 12, 12, 11, 7, 3, 0};
-        for (int i = 0; i < filled.length; i++) {
-            state("6: a full belt", m, i, filled[i], flights[i], 0);
+        return m;
+    }
+
+    private static void toldOfThatOne() {
+        BeltMachine ahead = Asm.program(1, 0);
+        Asm.pause(ahead, 0, 2);
+        Asm.bundle(ahead, 0, Asm.jump(1));
+        due.fault("a bundle ahead of it", ahead, 8, 1);
+        due.looks("it is not looked at again", ahead, 4, 4);
+        BeltMachine behind = Asm.program(1, 0, Asm.branch(0, 3));
+        Asm.pause(behind, 0, 2);
+        Asm.bundle(behind, 0, Asm.giveBack());
+        due.fault("a bundle behind it", behind, 8, 3);
+        due.looks("it is not looked at", behind, 4, 3);
+        BeltMachine itself = Asm.program(1, 0);
+        Asm.bundle(itself, 0, Asm.jump(1));
+        due.fault("itself", itself, 8, 1);
+        BeltMachine next = Asm.program(1, 0, Asm.branch(0, 1));
+        Asm.bundle(next, 0, Asm.giveBack());
+        due.fault("the one behind, where the BRANCH goes too", next, 8, 1);
+        due.state("it has that of the one ahead", next, 1, 1, 0, 0);
+    }
+
+    private static void orderOfOperations() {
+        int[] fill = Asm.fill(0);
+        int[] add = Asm.add(5, 5);
+        due.fault("FILL, ADD", Asm.program(1, 0, fill, add), 5, 0);
+        due.fault("ADD, FILL", Asm.program(1, 0, add, fill), 1, 0);
+        due.fault("FILL, RETURN", Asm.program(1, 1, fill, Asm.giveBack(5)), 5, 0);
+        due.fault("the fourth", Asm.program(1, 0, Asm.constant(1), Asm.spill(0, 0), fill, add),
+                1, 0);
+        due.fault("the third", Asm.program(1, 0, Asm.constant(1), Asm.spill(0, 1), fill, add),
+                5, 0);
+        due.fault("RETURN", Asm.program(1, 0, Asm.constant(1), Asm.giveBack()), 7, 0);
+    }
+
+    private static void orderInOneOperation() {
+        due.fault("RETURN: 1 ahead of 7", Asm.program(1, 1, Asm.constant(1), Asm.giveBack(1)), 1, 0);
+        due.fault("RETURN: the last of the list",
+                Asm.program(1, 3, Asm.constant(1), Asm.giveBack(0, 0, 1)), 1, 0);
+        due.fault("RETURN: 7", Asm.program(1, 1, Asm.constant(1), Asm.giveBack(0)), 7, 0);
+    }
+
+    private static void operationsAheadOfNext() {
+        due.fault("1 ahead of 6", Asm.program(1, 0, Asm.branch(3, 9)), 1, 0);
+        due.fault("1 ahead of 6", Asm.program(1, 0, Asm.jump(9, 3)), 1, 0);
+        due.fault("5 ahead of 6", Asm.program(1, 0, Asm.fill(1)), 5, 0);
+        due.fault("5 ahead of 8", Asm.program(1, 0, Asm.fill(1), Asm.jump(0)), 5, 0);
+        due.fault("1 ahead of 8", Asm.program(1, 0, Asm.jump(0, 1, 1)), 1, 0);
+        due.fault("1 ahead of 6", Asm.program(1, 0, Asm.call(0, 1)), 1, 0);
+    }
+
+    private static void behind() {
+        int[][] leading = {Asm.constant(1), Asm.branch(0, 2, 0), Asm.call(0, 0)};
+        for (int[] operation : leading) {
+            BeltMachine m = Asm.program(1, 0, operation);
+            Asm.bundle(m, 0, Asm.jump(2, 0));
+            Asm.bundle(m, 0, Asm.giveBack());
+            due.sound("code " + operation[0], m);
+            due.looks("code " + operation[0], m, 3, 3);
         }
-        due.same("6: bundles with a state", m.checked(1), 13);
-        due.same("6: looks", m.checked(2), 13);
+        BeltMachine empty = Asm.program(1, 0);
+        Asm.bundle(empty, 0, Asm.giveBack());
+        due.sound("without operations", empty);
+        due.looks("without operations", empty, 2, 2);
+        BeltMachine jump = Asm.program(1, 0, Asm.jump(2));
+        Asm.bundle(jump, 0, Asm.fill(0));
+        Asm.bundle(jump, 0, Asm.giveBack());
+        due.sound("not of a JUMP", jump);
+        due.noState("not of a JUMP", jump, 1);
+        BeltMachine back = Asm.program(1, 0, Asm.giveBack());
+        Asm.bundle(back, 0, Asm.fill(0));
+        due.sound("not of a RETURN", back);
+        due.noState("not of a RETURN", back, 1);
+        due.sound("a RETURN at the end", Asm.program(1, 0, Asm.giveBack()));
+        due.sound("a JUMP at the end", Asm.program(1, 0, Asm.jump(0, 0)));
     }
 
-    private static void spilledForSure() {
-        BeltMachine none = Asm.machine(1, 0);
-        Asm.bundle(none, 0, Asm.fill(0));
-        fault("5: nothing spilled", none, 5, 0);
-        BeltMachine ahead = Asm.machine(1, 0);
-        Asm.bundle(ahead, 0, Asm.spill(0, 7), Asm.fill(7));
-        Asm.bundle(ahead, 0, Asm.giveBack());
-        fault("5: spilled ahead in the bundle", ahead, 0, -1);
-        state("6: spilled ahead in the bundle", ahead, 1, 2, 0, 128);
-        BeltMachine behind = Asm.machine(1, 0);
-        Asm.bundle(behind, 0, Asm.fill(7), Asm.spill(0, 7));
-        fault("5: spilled behind in the bundle", behind, 5, 0);
-        BeltMachine other = Asm.machine(1, 0);
-        Asm.bundle(other, 0, Asm.spill(0, 0), Asm.spill(0, 6));
-        Asm.bundle(other, 0, Asm.fill(7));
-        fault("5: others spilled", other, 5, 1);
-        cellsThatBothHave();
-        lookedAtAgain();
-        lookedAtFiveTimes();
-    }
-
-    private static void cellsThatBothHave() {
-        BeltMachine m = Asm.machine(1, 0);
-        Asm.bundle(m, 0, Asm.spill(0, 1), Asm.spill(0, 2), Asm.branch(0, 2, 0));
-        Asm.bundle(m, 0, Asm.spill(0, 3), Asm.jump(3, 0));
-        Asm.bundle(m, 0, Asm.spill(0, 4));
-        Asm.bundle(m, 0, Asm.fill(1), Asm.fill(2));
+    private static void thenThatOfB() {
+        BeltMachine m = Asm.program(2, 0, Asm.constant(1), Asm.multiply(0, 1), Asm.spill(0, 3),
+                Asm.branch(0, 2, 0, 1, 0, 1, 1));
+        Asm.bundle(m, 0, Asm.jump(3, 2));
+        Asm.bundle(m, 0, Asm.jump(3, 5));
+        Asm.pause(m, 0, 1);
         Asm.bundle(m, 0, Asm.giveBack());
-        fault("5: cells of both ways", m, 0, -1);
-        state("6: cells of both ways", m, 0, 1, 0, 0);
-        state("6: cells of both ways", m, 2, 1, 0, 6);
-        state("6: cells of both ways", m, 3, 1, 0, 6);
-        state("6: cells of both ways", m, 4, 3, 0, 6);
-        due.same("6: none was looked at twice", m.checked(2), 5);
+        due.sound("a BRANCH and JUMPs", m);
+        due.state("behind the BRANCH", m, 1, 3, 1, 8);
+        due.state("where it goes", m, 2, 6, 1, 8);
+        due.state("where both JUMP", m, 3, 1, 1, 8);
+        due.state("behind that", m, 4, 2, 0, 8);
+        BeltMachine eight = Asm.program(1, 0, Asm.branch(0, 2, 0));
+        Asm.bundle(eight, 0, Asm.constant(1), Asm.branch(0, 20, 0));
+        Asm.bundle(eight, 0, Asm.giveBack());
+        due.fault("8 of the one behind ahead of 6", eight, 8, 2);
+        BeltMachine six = Asm.program(1, 0);
+        Asm.bundle(six, 0, Asm.constant(1), Asm.branch(0, 0, 0));
+        due.fault("6 of the one behind ahead of 8", six, 6, 1);
+        BeltMachine given = Asm.program(1, 0, Asm.branch(0, 2));
+        Asm.bundle(given, 0, Asm.giveBack());
+        due.fault("6 of the BRANCH", given, 6, 0);
+        due.looks("the one behind has its state", given, 2, 1);
+        BeltMachine bits = Asm.program(1, 0);
+        bits.operation(0, 12, 0, 0, 0x99901);
+        due.sound("a list ends at a 0", bits);
+    }
+
+    private static void hasThis() {
+        BeltMachine m = Asm.program(3, 0, Asm.spill(2, 1), Asm.load(0), Asm.branch(0, 2, 0));
+        Asm.bundle(m, 0, Asm.spill(3, 0));
+        Asm.bundle(m, 0, Asm.giveBack());
+        due.fault("looked at", m, 1, 1);
+        due.looks("two looks, three states", m, 3, 2);
+        due.state("the one behind", m, 1, 3, 1, 2);
+        due.state("that of the BRANCH", m, 2, 1, 1, 2);
+        BeltMachine both = Asm.program(1, 0, Asm.branch(0, 2, 0));
+        Asm.pause(both, 0, 1);
+        Asm.bundle(both, 0, Asm.giveBack());
+        due.sound("led to twice", both);
+        due.looks("looked at once", both, 3, 3);
+        BeltMachine loop = Asm.program(1, 0, Asm.jump(0, 0));
+        due.sound("a loop without end", loop);
+        due.looks("a loop without end", loop, 1, 1);
+    }
+
+    private static void cellsOfBoth() {
+        BeltMachine m = Asm.program(1, 0, Asm.spill(0, 1), Asm.spill(0, 2), Asm.branch(0, 2, 0));
+        Asm.bundle(m, 0, Asm.spill(0, 3), Asm.spill(0, 5), Asm.jump(3, 0));
+        Asm.bundle(m, 0, Asm.spill(0, 4), Asm.spill(0, 5));
+        Asm.bundle(m, 0, Asm.fill(1), Asm.fill(2), Asm.fill(5));
+        Asm.bundle(m, 0, Asm.giveBack());
+        due.sound("two ways", m);
+        due.state("two ways", m, 0, 1, 0, 0);
+        due.state("two ways", m, 2, 1, 0, 6);
+        due.state("two ways", m, 3, 1, 0, 38);
+        due.state("two ways", m, 4, 4, 0, 38);
+        due.looks("none was looked at twice", m, 5, 5);
+        BeltMachine more = Asm.program(1, 0, Asm.branch(0, 2, 0));
+        Asm.bundle(more, 0, Asm.jump(3, 0));
+        Asm.bundle(more, 0, Asm.spill(0, 6), Asm.jump(3, 0));
+        Asm.bundle(more, 0, Asm.giveBack());
+        due.sound("more than it has", more);
+        due.state("more than it has", more, 3, 1, 0, 0);
     }
 
     /** Bundle 3 leads to bundle 2 when that has been looked at with cell 5. */
-    private static void lookedAtAgain() {
-        BeltMachine m = Asm.machine(1, 0);
-        Asm.bundle(m, 0, Asm.branch(0, 3, 0));
+    private static BeltMachine cellIsLost(int[]... second) {
+        BeltMachine m = Asm.program(1, 0, Asm.branch(0, 3, 0));
         Asm.bundle(m, 0, Asm.spill(0, 5));
-        Asm.bundle(m, 0, Asm.jump(4, 0));
+        Asm.bundle(m, 0, second);
         Asm.bundle(m, 0, Asm.jump(2, 0));
         Asm.bundle(m, 0, Asm.giveBack());
-        fault("5: a cell is lost", m, 0, -1);
-        due.same("6: one was looked at twice", m.checked(2), 6);
-        due.same("6: five have states", m.checked(1), 5);
-        state("6: a cell is lost", m, 2, 1, 0, 0);
-        state("6: a cell is lost", m, 4, 1, 0, 0);
-        BeltMachine bad = Asm.machine(1, 0);
-        Asm.bundle(bad, 0, Asm.branch(0, 3, 0));
-        Asm.bundle(bad, 0, Asm.spill(0, 5));
-        Asm.bundle(bad, 0, Asm.fill(5), Asm.jump(4));
-        Asm.bundle(bad, 0, Asm.jump(2, 0));
-        Asm.bundle(bad, 0, Asm.giveBack());
-        fault("5: a cell is lost that is filled", bad, 5, 2);
-        due.same("6: looks till then", bad.checked(2), 5);
-        state("6: not looked at again", bad, 4, 1, 0, 32);
+        return m;
+    }
+
+    private static void lookedAtAgain() {
+        BeltMachine m = cellIsLost(Asm.jump(4, 0));
+        due.sound("a cell is lost", m);
+        due.looks("0, 1, 2, 3, 2, 4", m, 5, 6);
+        due.state("a cell is lost", m, 2, 1, 0, 0);
+        due.state("a cell is lost", m, 4, 1, 0, 0);
+        BeltMachine fill = cellIsLost(Asm.fill(5), Asm.jump(4));
+        due.fault("a cell that is filled", fill, 5, 2);
+        due.looks("0, 1, 2, 3, 2", fill, 5, 5);
+        due.state("what it had led to", fill, 4, 1, 0, 32);
+        BeltMachine back = Asm.program(1, 0);
+        Asm.bundle(back, 0, Asm.spill(0, 1), Asm.jump(1, 0));
+        due.sound("not if it has the same", back);
+        due.looks("not if it has the same", back, 2, 2);
+        due.state("not if it has the same", back, 1, 1, 0, 0);
     }
 
     /** A chain of fourteen bundles that loses its four cells one by one. */
     private static void lookedAtFiveTimes() {
-        BeltMachine m = Asm.machine(1, 0);
-        Asm.bundle(m, 0, Asm.branch(0, 16, 0));
+        BeltMachine m = Asm.program(1, 0, Asm.branch(0, 16, 0));
         Asm.bundle(m, 0, Asm.spill(0, 0), Asm.spill(0, 1), Asm.spill(0, 2), Asm.spill(0, 3));
         Asm.pause(m, 0, 13);
         Asm.bundle(m, 0, Asm.giveBack());
@@ -224,233 +510,43 @@ public final class CheckerTest {
             Asm.bundle(m, 0, Asm.spill(0, i + 1 & 3), Asm.spill(0, i + 2 & 3),
                     Asm.spill(0, i + 3 & 3), Asm.jump(2, 0));
         }
-        fault("5: cells are lost one by one", m, 0, -1);
-        due.same("6: all have states", m.checked(1), 24);
-        due.same("6: the chain is looked at five times", m.checked(2), 10 + 5 * 14);
-        state("6: the chain's begin", m, 2, 1, 0, 0);
-        state("6: the chain's end", m, 15, 1, 0, 0);
-    }
-
-    private static void missingBundles() {
-        BeltMachine through = Asm.machine(1, 0);
-        Asm.pause(through, 0, 24);
-        fault("5: behind the last", through, 6, 23);
-        due.same("6: looks", through.checked(2), 24);
-        state("6: the last one", through, 23, 1, 0, 0);
-        BeltMachine jump = Asm.machine(1, 0);
-        Asm.bundle(jump, 0);
-        Asm.bundle(jump, 0, Asm.jump(3));
-        Asm.bundle(jump, 0, Asm.giveBack());
-        fault("5: a jump behind the last", jump, 6, 1);
-        due.same("6: it gives no state", jump.checked(1), 2);
-        BeltMachine branch = Asm.machine(1, 0);
-        Asm.bundle(branch, 0, Asm.branch(0, 2));
-        Asm.bundle(branch, 0, Asm.giveBack());
-        fault("5: a branch behind the last", branch, 6, 0);
-        due.same("6: the one behind has got its state", branch.checked(1), 2);
-        BeltMachine last = Asm.machine(1, 0);
-        Asm.bundle(last, 0, Asm.branch(0, 0, 0));
-        fault("5: behind a branch", last, 6, 0);
-        BeltMachine call = Asm.machine(1, 0);
-        Asm.bundle(call, 0, Asm.call(0, 0));
-        fault("5: behind a call", call, 6, 0);
-    }
-
-    private static void returnInFlight() {
-        int[][] operations = {Asm.constant(1), Asm.load(0), Asm.multiply(0, 0), Asm.divide(0, 0)};
-        for (int i = 0; i < operations.length; i++) {
-            for (int cycles = 0; cycles <= 4; cycles++) {
-                BeltMachine m = Asm.machine(1, 1);
-                Asm.bundle(m, 0, operations[i]);
-                Asm.pause(m, 0, cycles);
-                Asm.bundle(m, 0, Asm.giveBack(0));
-                fault("5: return " + cycles + " behind code " + operations[i][0], m,
-                        cycles < i ? 7 : 0, cycles < i ? cycles + 1 : -1);
-            }
-        }
-        BeltMachine m = Asm.machine(1, 1);
-        Asm.bundle(m, 0, Asm.constant(1), Asm.giveBack(0));
-        fault("5: return in the bundle itself", m, 7, 0);
-    }
-
-    private static void otherStates() {
-        BeltMachine positions = Asm.machine(1, 0);
-        Asm.bundle(positions, 0, Asm.branch(0, 2));
-        Asm.bundle(positions, 0);
-        Asm.bundle(positions, 0, Asm.giveBack());
-        fault("5: another number of positions", positions, 8, 2);
-        due.same("6: looks till then", positions.checked(2), 2);
-        state("6: it keeps what it has", positions, 2, 0, 0, 0);
-        BeltMachine flights = Asm.machine(1, 0);
-        Asm.bundle(flights, 0, Asm.spill(0, 0), Asm.branch(0, 2, 0));
-        Asm.bundle(flights, 0, Asm.multiply(0, 0));
-        Asm.bundle(flights, 0, Asm.giveBack());
-        fault("5: other flights", flights, 8, 2);
-        state("6: it keeps what it has", flights, 2, 1, 0, 1);
-        BeltMachine itself = Asm.machine(0, 0);
-        Asm.bundle(itself, 0, Asm.constant(1), Asm.jump(0));
-        fault("5: a bundle that leads to itself", itself, 8, 0);
-        BeltMachine slower = Asm.machine(1, 0);
-        Asm.bundle(slower, 0, Asm.multiply(0, 0), Asm.branch(0, 3, 0));
-        Asm.bundle(slower, 0);
-        Asm.bundle(slower, 0, Asm.multiply(0, 0), Asm.jump(3));
-        Asm.bundle(slower, 0);
-        fault("5: as many flights, as long each", slower, 6, 3);
-        due.same("6: that state came from two", slower.checked(32 + 3), 1);
-    }
-
-    private static void faultOrder() {
-        BeltMachine m = Asm.machine(1, 1);
-        Asm.bundle(m, 0, Asm.fill(0), Asm.add(5, 5));
-        fault("5: FILL ahead", m, 5, 0);
-        BeltMachine add = Asm.machine(1, 1);
-        Asm.bundle(add, 0, Asm.add(5, 5), Asm.fill(0));
-        fault("5: ADD ahead", add, 1, 0);
-        BeltMachine both = Asm.machine(1, 1);
-        Asm.bundle(both, 0, Asm.constant(1), Asm.giveBack(3));
-        fault("5: the position ahead of the flight", both, 1, 0);
-        BeltMachine operations = Asm.machine(1, 1);
-        Asm.bundle(operations, 0, Asm.branch(3, 9));
-        fault("5: the operation ahead of the next bundles", operations, 1, 0);
-        BeltMachine behind = Asm.machine(1, 0);
-        Asm.bundle(behind, 0, Asm.branch(0, 2, 0));
-        Asm.bundle(behind, 0, Asm.constant(1), Asm.branch(0, 20, 0));
-        Asm.bundle(behind, 0, Asm.giveBack());
-        fault("5: 8 of the one behind ahead of 6", behind, 8, 2);
-        BeltMachine target = Asm.machine(1, 0);
-        Asm.bundle(target, 0);
-        Asm.bundle(target, 0, Asm.constant(1), Asm.branch(0, 0, 0));
-        fault("5: 6 of the one behind ahead of 8", target, 6, 1);
-    }
-
-    private static void branchAndJump() {
-        BeltMachine m = Asm.machine(2, 0);
-        Asm.bundle(m, 0, Asm.constant(1), Asm.multiply(0, 1), Asm.branch(0, 2, 0, 1, 0, 1, 1));
-        Asm.bundle(m, 0, Asm.jump(3, 2));
-        Asm.bundle(m, 0, Asm.jump(3, 5));
-        Asm.bundle(m, 0);
-        Asm.bundle(m, 0, Asm.giveBack());
-        fault("5: branch and jump", m, 0, -1);
-        state("6: behind the branch", m, 1, 3, 1, 0);
-        state("6: where it goes", m, 2, 6, 1, 0);
-        state("6: where both jump", m, 3, 1, 1, 0);
-        state("6: behind that", m, 4, 2, 0, 0);
-        BeltMachine loop = Asm.machine(1, 0);
-        Asm.bundle(loop, 0, Asm.jump(0, 0));
-        fault("5: a loop without end", loop, 0, -1);
-        due.same("6: one look", loop.checked(2), 1);
-        BeltMachine bits = Asm.machine(1, 0);
-        bits.bundle(0);
-        bits.operation(0, 12, 0, 0, 0x99901);
-        fault("5: a list ends at a 0", bits, 0, -1);
+        due.sound("cells are lost one by one", m);
+        due.looks("cells are lost one by one", m, 24, 10 + 5 * 14);
+        due.state("the chain's begin", m, 2, 1, 0, 0);
+        due.state("the chain's end", m, 15, 1, 0, 0);
     }
 
     private static void calls() {
-        BeltMachine m = Asm.machine(1, 0);
-        m.function(2, 3);
-        m.function(0, 0);
-        Asm.bundle(m, 0, Asm.multiply(0, 0), Asm.call(1, 0, 0));
-        Asm.bundle(m, 0, Asm.call(2));
-        Asm.bundle(m, 0, Asm.constant(1), Asm.call(1, 0, 3));
-        Asm.bundle(m, 0, Asm.giveBack());
-        fault("5: what is called is not looked at", m, 0, -1);
-        state("6: behind a call", m, 1, 4, 1, 0);
-        state("6: behind a call", m, 2, 4, 1, 0);
-        state("6: behind a call, full", m, 3, 8, 0, 0);
-        due.same("5: what is called", m.check(1), 6);
+        for (int results = 0; results <= 3; results++) {
+            BeltMachine m = Asm.pair(1, 0, 2, results);
+            Asm.bundle(m, 0, Asm.multiply(0, 0), Asm.constant(1), Asm.spill(0, 4),
+                    Asm.call(1, 0, 0));
+            Asm.bundle(m, 0, Asm.call(1, 0, 1));
+            Asm.bundle(m, 0, Asm.constant(1), Asm.call(1, 0, 1));
+            Asm.bundle(m, 0, Asm.giveBack());
+            due.sound(results + " results", m);
+            due.state("a call", m, 1, 2 + results, 1, 16);
+            due.state("a call", m, 2, 2 + 2 * results, 1, 16);
+            due.state("a call", m, 3, Math.min(8, 4 + 3 * results), 0, 16);
+        }
     }
 
-    private static void leastBundleFirst() {
-        BeltMachine m = Asm.machine(1, 0);
-        Asm.bundle(m, 0, Asm.jump(3, 0));
-        Asm.bundle(m, 0, Asm.fill(0));
-        Asm.bundle(m, 0, Asm.giveBack());
-        Asm.bundle(m, 0, Asm.branch(0, 1, 0));
-        Asm.bundle(m, 0, Asm.add(7, 7));
-        fault("5: the least bundle first", m, 5, 1);
-        due.same("6: looks till then", m.checked(2), 3);
-        due.same("6: states till then", m.checked(1), 4);
-        state("6: not led to", m, 2, -1, -1, -1);
-        state("6: not looked at", m, 4, 1, 0, 0);
-    }
-
-    private static void unreachedBundles() {
-        BeltMachine m = Asm.machine(1, 1);
-        Asm.bundle(m, 0, Asm.giveBack(0));
+    private static void unreached() {
+        BeltMachine m = Asm.program(1, 1, Asm.giveBack(0));
         Asm.bundle(m, 0, Asm.add(7, 7));
         Asm.bundle(m, 0, Asm.fill(7), Asm.jump(23));
-        fault("5: nothing leads there", m, 0, -1);
-        due.same("6: one state", m.checked(1), 1);
-        state("6: nothing leads there", m, 1, -1, -1, -1);
-        state("6: there is none", m, 23, -1, -1, -1);
-    }
-
-    private static void statesAtAFault() {
-        BeltMachine m = Asm.machine(3, 0);
-        Asm.bundle(m, 0, Asm.spill(2, 1), Asm.branch(0, 2, 0));
-        Asm.bundle(m, 0, Asm.load(3));
-        Asm.bundle(m, 0, Asm.giveBack());
-        fault("5: an empty position", m, 1, 1);
-        due.same("6: states", m.checked(1), 3);
-        due.same("6: looks", m.checked(2), 2);
-        state("6: the one with the fault", m, 1, 3, 0, 2);
-        state("6: one that waits", m, 2, 1, 0, 2);
-    }
-
-    private static void latestCheckCounts() {
-        BeltMachine m = Asm.machine(1, 0);
-        m.function(3, 0);
-        Asm.bundle(m, 0, Asm.giveBack());
-        Asm.bundle(m, 1);
-        m.check(0);
-        due.same("6: of function 0", m.checked(8), 1);
-        fault("5: function 0", m, 0, -1);
-        m.check(1);
-        due.same("6: of function 1", m.checked(8), 3);
-        due.illegalArgument("5: function 2", () -> m.check(2));
-        due.same("6: a check that threw", m.checked(8), 3);
-        m.start(0, 0, 0);
-        due.same("6: start is no check", m.checked(8), 3);
-        due.illegalState("7: not sound", () -> m.start(1, 0, 0));
-        m.check(0);
-        due.illegalState("7: not sound", () -> m.start(1, 0, 0));
-        due.same("6: nor one that threw", m.checked(0), -1);
-        m.check(1);
-        Asm.bundle(m, 1, Asm.giveBack());
-        due.same("6: as the code was then", m.checked(1), 1);
-        due.same("5: as the code is", m.check(1), 0);
-        due.same("6: as the code is", m.checked(1), 2);
-    }
-
-    private static void nothingOfAnEarlierCheck() {
-        BeltMachine m = Asm.machine(2, 0);
-        m.function(1, 0);
-        Asm.bundle(m, 0, Asm.spill(0, 0), Asm.multiply(0, 0), Asm.branch(0, 2, 0));
-        Asm.bundle(m, 0, Asm.add(7, 7));
-        Asm.bundle(m, 0);
-        Asm.bundle(m, 1, Asm.giveBack());
-        Asm.bundle(m, 1, Asm.fill(0));
-        Asm.bundle(m, 1, Asm.fill(0));
-        due.same("5: a bundle still waits", m.check(0), 1);
-        due.same("6: it has a state", m.checked(10), 1);
-        due.same("5: sound", m.check(1), 0);
-        due.same("6: no fault", m.checked(0), -1);
-        due.same("6: one state", m.checked(1), 1);
-        due.same("6: one look", m.checked(2), 1);
-        state("6: of function 1", m, 0, 1, 0, 0);
-        state("6: of function 1", m, 2, -1, -1, -1);
-    }
-
-    private static void whatOutOfRange() {
-        BeltMachine m = Asm.machine(1, 0);
-        Asm.pause(m, 0, 24);
-        m.check(0);
-        int[] others = {Integer.MIN_VALUE, -8, -1, 3, 4, 5, 6, 7, 80, 81, 104, Integer.MAX_VALUE};
-        for (int what : others) {
-            due.same("6: checked " + what, m.checked(what), -1);
+        Asm.bundle(m, 0, Asm.constant(1), Asm.giveBack(0));
+        Asm.bundle(m, 0, Asm.jump(0));
+        due.sound("their faults are none", m);
+        due.looks("one state", m, 1, 1);
+        for (int bundle = 1; bundle < 24; bundle++) {
+            due.noState("nothing leads there", m, bundle);
         }
-        due.same("6: checked 31", m.checked(31), 1);
-        due.same("6: checked 55", m.checked(55), 0);
-        due.same("6: checked 79", m.checked(79), 0);
+        BeltMachine early = Asm.program(1, 0, Asm.branch(0, 3, 0));
+        Asm.bundle(early, 0, Asm.fill(0));
+        Asm.pause(early, 0, 1);
+        Asm.bundle(early, 0, Asm.giveBack());
+        due.fault("a fault ahead of them", early, 5, 1);
+        due.noState("a fault ahead of them", early, 2);
     }
 }

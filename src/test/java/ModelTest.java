@@ -7,7 +7,9 @@ import java.util.function.Supplier;
  * numbers are drawn by a fixed rule, so that each run of this test makes the same calls.
  */
 public final class ModelTest {
-    private static final int PROGRAMS = 4000;
+    private static final int PROGRAMS = 12000;
+    // The document promises nothing of what an object answers to later calls.
+    private static final int MOST_CALLS = 512;
     private static final Due due = new Due();
 
     private final int number;
@@ -16,6 +18,7 @@ public final class ModelTest {
     private final int[] arguments = new int[8];
     private final int[] results = new int[8];
     private int functions;
+    private int calls;
     private long seed;
     private boolean careful;
     // A flat program keeps its number of positions, so that many ways may lead to one bundle.
@@ -74,6 +77,10 @@ public final class ModelTest {
     }
 
     private Object both(String what, Supplier<Object> got, Supplier<Object> want) {
+        if (calls == MOST_CALLS) {
+            return "no call is left";
+        }
+        calls++;
         Object is = answer(got);
         Object wanted = answer(want);
         if (!Objects.equals(is, wanted)) {
@@ -93,8 +100,8 @@ public final class ModelTest {
         for (int f = 0; f < functions; f++) {
             fill(f);
         }
-        reads();
-        for (int f = -1; f <= functions; f++) {
+        reads(4);
+        for (int f = draw(9) == 0 ? -1 : 0; f < functions; f++) {
             check(f);
         }
         for (int f = 0; f < functions; f++) {
@@ -192,10 +199,20 @@ public final class ModelTest {
             faults[(Integer) fault]++;
             lookedAgain += model.checked(2) > model.checked(1) ? 1 : 0;
         }
-        for (int what = -1; what <= 81; what++) {
-            int w = what;
-            both("checked " + what, () -> machine.checked(w), () -> model.checked(w));
+        for (int what = 0; what <= 2; what++) {
+            checked(what);
         }
+        int bundles = f < 0 ? 0 : model.count(8 + f);
+        for (int bundle = 0; bundle < bundles; bundle++) {
+            checked(8 + bundle);
+            checked(32 + bundle);
+            checked(56 + bundle);
+        }
+        checked(draw(90) - 5);
+    }
+
+    private void checked(int what) {
+        both("checked " + what, () -> machine.checked(what), () -> model.checked(what));
     }
 
     private void begin(int f) {
@@ -210,21 +227,26 @@ public final class ModelTest {
         });
         started += threw.equals("begun") ? 1 : 0;
         if (!threw.equals("begun") || draw(4) == 0) {
-            machine.force(f, second, first);
-            model.force(f, second, first);
+            both("force", () -> {
+                machine.force(f, second, first);
+                return "begun";
+            }, () -> {
+                model.force(f, second, first);
+                return "begun";
+            });
         }
-        both("checked 1", () -> machine.checked(1), () -> model.checked(1));
-        reads();
+        checked(1);
+        reads(3);
     }
 
     private void runs() {
-        for (int i = 0; i < 12; i++) {
-            int cycles = i == 11 ? 60 : draw(20) == 0 ? draw(40) - 1 : 1 + draw(4);
+        for (int i = 0; i < 8; i++) {
+            int cycles = i == 7 ? 60 : draw(20) == 0 ? draw(40) - 1 : 1 + draw(4);
             Object answer = both("run", () -> machine.run(cycles), () -> model.run(cycles));
             if (answer instanceof Integer) {
                 ends[(Integer) answer]++;
             }
-            reads();
+            reads(10);
             if (draw(9) == 0) {
                 int cell = draw(18) - 1;
                 long value = draw(20);
@@ -232,19 +254,26 @@ public final class ModelTest {
                         () -> model.setCell(cell, value));
             }
         }
-        traps[model.state(0)]++;
+        if (model.state(0) >= 0) {
+            traps[model.state(0)]++;
+        }
         deep += model.state(6) > 1 ? 1 : 0;
     }
 
-    private void reads() {
-        for (int what = -1; what <= 17; what++) {
-            int w = what;
-            both("state " + what, () -> machine.state(w), () -> model.state(w));
-            both("belt " + what, () -> machine.belt(w), () -> model.belt(w));
-            both("result " + what, () -> machine.result(w), () -> model.result(w));
-            both("scratch " + what, () -> machine.scratch(w), () -> model.scratch(w));
-            both("cell " + what, () -> machine.cell(w), () -> model.cell(w));
-            both("count " + what, () -> machine.count(w), () -> model.count(w));
+    private void reads(int count) {
+        for (int i = 0; i < count; i++) {
+            read(draw(12), draw(15) == 0 ? draw(22) - 2 : draw(8));
+        }
+    }
+
+    private void read(int kind, int at) {
+        switch (kind) {
+            case 0, 1, 2, 3 -> both("state " + at, () -> machine.state(at), () -> model.state(at));
+            case 4, 5, 6 -> both("belt " + at, () -> machine.belt(at), () -> model.belt(at));
+            case 7 -> both("result " + at, () -> machine.result(at), () -> model.result(at));
+            case 8 -> both("scratch " + at, () -> machine.scratch(at), () -> model.scratch(at));
+            case 9 -> both("count " + at, () -> machine.count(at), () -> model.count(at));
+            default -> both("cell " + at, () -> machine.cell(at), () -> model.cell(at));
         }
     }
 }
