@@ -3,18 +3,22 @@ public final class BuildTest {
     private static final Due due = new Due();
 
     public static void main(String[] args) {
+        due.under("Promise 1: A new object");
         due.sentence("`BeltMachine()`: No functions", BuildTest::noFunctions);
         due.sentence("cells are 0", BuildTest::cellsAreZero);
         due.sentence("no run.", BuildTest::noRun);
+        due.under("Promise 2: function");
         due.sentence("One more function, without bundles: its number.", BuildTest::oneMoreFunction);
         due.sentence("IllegalArgumentException if it can't have so many arguments or results",
                 BuildTest::soManyCantBe);
         due.sentence("IllegalStateException if there are 8.", BuildTest::eightFunctions);
+        due.under("Promise 3: bundle");
         due.sentence("A function gets one more bundle, without operations: its number.",
                 BuildTest::oneMoreBundle);
         due.sentence("IllegalArgumentException if there is no such function",
                 BuildTest::bundleOfNoFunction);
         due.sentence("IllegalStateException if it has 24.", BuildTest::bundles24);
+        due.under("Promise 4: operation");
         due.sentence("The last bundle of a function gets one more operation: how many it has then.",
                 BuildTest::oneMoreOperation);
         due.sentence("IllegalArgumentException if there is no such function",
@@ -31,6 +35,7 @@ public final class BuildTest {
         due.sentence("IllegalStateException if it has no bundle", BuildTest::noBundle);
         due.sentence("that has 4", BuildTest::fourOperations);
         due.sentence("or CONTROL.", BuildTest::behindControl);
+        due.under("Promise 16: count");
         due.sentence("what 0: functions", BuildTest::countOfFunctions);
         due.sentence("from 8 on bundles of function what - 8.", BuildTest::countOfBundles);
         due.sentence("NONE for another what.", BuildTest::countOfAnother);
@@ -268,38 +273,32 @@ public final class BuildTest {
         due.same("behind it", later.operation(0, 13, 1, 0, 0), 1);
     }
 
-    private static void listOfCall() {
+    /** Lists of all lengths for a CALL or RETURN: those of this length alone are taken. */
+    private static void lists(int arguments, int results, int code, int length) {
         int[] lists = {0, 0x1, 0x11, 0x111, 0x1111, 0x11111, 0x11111111};
-        for (int arguments = 0; arguments <= 4; arguments++) {
-            for (int length = 0; length < lists.length; length++) {
-                BeltMachine m = Asm.pair(0, 3, arguments, 3);
-                m.bundle(0);
-                int list = lists[length];
-                String what = arguments + " arguments, list " + Integer.toHexString(list);
-                if (length == arguments) {
-                    due.same(what, m.operation(0, 13, 1, 0, list), 1);
-                } else {
-                    due.illegalArgument(what, () -> m.operation(0, 13, 1, 0, list));
-                }
+        for (int i = 0; i < lists.length; i++) {
+            BeltMachine m = Asm.pair(4 - arguments, results, arguments, 3 - results);
+            m.bundle(0);
+            int list = lists[i];
+            String what = length + " and list " + Integer.toHexString(list);
+            if (i == length) {
+                due.same(what, m.operation(0, code, 1, 0, list), 1);
+            } else {
+                due.illegalArgument(what, () -> m.operation(0, code, 1, 0, list));
             }
+        }
+    }
+
+    private static void listOfCall() {
+        for (int arguments = 0; arguments <= 4; arguments++) {
+            lists(arguments, 3, 13, arguments);
         }
         due.isTrue("what is behind a 0 does not count", takes(13, 0, 0, 0xFFFFF021));
     }
 
     private static void listOfReturn() {
-        int[] lists = {0, 0x1, 0x11, 0x111, 0x1111, 0x11111111};
         for (int results = 0; results <= 3; results++) {
-            for (int length = 0; length < lists.length; length++) {
-                BeltMachine m = Asm.pair(4, results, 4, 3 - results);
-                m.bundle(0);
-                int list = lists[length];
-                String what = results + " results, list " + Integer.toHexString(list);
-                if (length == results) {
-                    due.same(what, m.operation(0, 14, 0, 0, list), 1);
-                } else {
-                    due.illegalArgument(what, () -> m.operation(0, 14, 0, 0, list));
-                }
-            }
+            lists(4, results, 14, results);
         }
         due.isTrue("what is behind a 0 does not count", takes(14, 0, 0, 0xFFFF0121));
     }

@@ -3,10 +3,12 @@ public final class CheckedTest {
     private static final Due due = new Due();
 
     public static void main(String[] args) {
+        due.under("Promise 5: check");
         due.sentence("The checker looks at a function: 0 if it is sound", CheckedTest::sound);
         due.sentence("else the fault.", CheckedTest::fault);
         due.sentence("IllegalArgumentException if there is no such function.",
                 CheckedTest::noSuchFunction);
+        due.under("Promise 6: checked");
         due.sentence("Of the latest check()", CheckedTest::latestCheck);
         due.sentence("that did not throw", CheckedTest::didNotThrow);
         due.sentence("what 0: the bundle of the fault, NONE without", CheckedTest::faultBundle);

@@ -3,6 +3,7 @@ public final class CheckerTest {
     private static final Due due = new Due();
 
     public static void main(String[] args) {
+        due.under("Terms, THE CHECKER");
         due.sentence("THE CHECKER looks at the code of a function", CheckerTest::codeAlone);
         due.sentence("a STATE of a bundle is how many positions are not EMPTY",
                 CheckerTest::filledPositions);

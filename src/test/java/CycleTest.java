@@ -3,6 +3,7 @@ public final class CycleTest {
     private static final Due due = new Due();
 
     public static void main(String[] args) {
+        due.under("Terms, CYCLE");
         due.sentence("A CYCLE of the frame on top, at its bundle", CycleTest::frameOnTop);
         due.sentence("the operations issue in order", CycleTest::inOrder);
         due.sentence("each takes values from the belt as it is at the cycle's beginning",
@@ -207,9 +208,10 @@ public final class CycleTest {
             m.run(2);
             due.belt("and drop in their time", m, 42, 1, 0, 6, 7, 6);
         }
-        BeltMachine none = Asm.program(3, 0, Asm.jump(1));
+        BeltMachine none = Asm.program(3, 0, Asm.spill(1, 4), Asm.jump(1));
         Asm.go(none, 6, 7, 1);
         due.belt("none", none);
+        due.same("the belt alone: scratch cells stay", none.scratch(4), 7);
         BeltMachine full = Asm.program(1, 0, Asm.constant(3), Asm.jump(1, 0, 0, 0, 0, 0, 0, 0, 0));
         Asm.go(full, 7, 0, 1);
         due.belt("eight, and one drops", full, 3, 7, 7, 7, 7, 7, 7, 7);
@@ -315,6 +317,15 @@ public final class CycleTest {
         Asm.go(none, 10, 20, 1);
         due.same("function", none.state(1), 1);
         due.belt("no arguments", none);
+        BeltMachine again = Asm.pair(1, 0, 1, 0);
+        Asm.bundle(again, 0, Asm.call(1, 0));
+        Asm.bundle(again, 1, Asm.spill(0, 1), Asm.divide(0, 0), Asm.constant(3), Asm.fill(0));
+        again.force(0, 5, 0);
+        due.trap("in a callee", again, 5, 2);
+        Asm.go(again, 6, 0, 1);
+        due.same("it has no flights of an earlier run", again.state(4), 0);
+        due.noElement("nor scratch cells", () -> again.scratch(1));
+        due.belt("nor values", again, 6);
     }
 
     private static void callerWaits() {

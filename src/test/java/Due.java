@@ -7,14 +7,20 @@ final class Due {
         void make();
     }
 
+    private String heading = "";
     private String sentence = "";
     private int sentences;
     private int wrong;
     private int seen;
 
+    /** The part of the document where the sentences that follow stand. */
+    void under(String part) {
+        heading = part;
+    }
+
     /** A sentence of the document, word for word, with the test of its own that it has. */
     void sentence(String text, Call test) {
-        sentence = "\"" + text + "\": ";
+        sentence = heading + ", \"" + text + "\": ";
         sentences++;
         int before = seen;
         try {
@@ -123,8 +129,8 @@ final class Due {
     }
 
     void end() {
-        System.out.println(sentences + " sentences, " + seen + " answers, " + wrong
-                + " not as due");
+        System.out.println((sentences > 0 ? sentences + " sentences, " : "") + seen + " answers, "
+                + wrong + " not as due");
         if (wrong != 0 || seen == 0) {
             System.exit(1);
         }

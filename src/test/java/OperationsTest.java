@@ -5,6 +5,7 @@ public final class OperationsTest {
     private static final Due due = new Due();
 
     public static void main(String[] args) {
+        due.under("Terms, OPERATIONS");
         due.sentence("0 CONSTANT: the value a.", OperationsTest::constant);
         due.sentence("1 ADD", OperationsTest::add);
         due.sentence("2 SUBTRACT", OperationsTest::subtract);

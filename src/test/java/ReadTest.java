@@ -3,19 +3,24 @@ public final class ReadTest {
     private static final Due due = new Due();
 
     public static void main(String[] args) {
+        due.under("Promise 11: belt");
         due.sentence("The value at a position of the belt of the frame on top.", ReadTest::belt);
         due.sentence("NoSuchElementException if it is EMPTY", ReadTest::emptyPosition);
         due.sentence("or there is none such", ReadTest::noSuchPosition);
         due.sentence("or no frame.", ReadTest::beltWithoutFrame);
+        due.under("Promise 12: result");
         due.sentence("Result i of a run that is over by a RETURN.", ReadTest::results);
         due.sentence("NoSuchElementException if there is none such.", ReadTest::noSuchResult);
         due.sentence("NoSuchElementException if there is none such.", ReadTest::notOverByReturn);
+        due.under("Promise 13: scratch");
         due.sentence("A scratch cell of the frame on top.", ReadTest::scratch);
         due.sentence("NoSuchElementException if there is none such", ReadTest::noSuchScratchCell);
         due.sentence("nothing was spilled there", ReadTest::nothingSpilled);
         due.sentence("or there is no frame.", ReadTest::scratchWithoutFrame);
+        due.under("Promise 14: cell");
         due.sentence("A cell of memory.", ReadTest::cells);
         due.sentence("IndexOutOfBoundsException if there is none such.", ReadTest::noSuchCell);
+        due.under("Promise 15: setCell");
         due.sentence("A cell of memory gets a value: true", ReadTest::setCells);
         due.sentence("false if there is none such.", ReadTest::setNoSuchCell);
         due.end();

@@ -3,6 +3,7 @@ public final class RunTest {
     private static final Due due = new Due();
 
     public static void main(String[] args) {
+        due.under("Promise 7: start");
         due.sentence("A run begins", RunTest::startBegins);
         due.sentence("(one that there was is gone)", RunTest::earlierRunIsGone);
         due.sentence("two values are the first arguments, others 0.", RunTest::startArguments);
@@ -11,15 +12,18 @@ public final class RunTest {
         due.sentence("IllegalStateException if it", RunTest::startOfUnsound);
         due.sentence("or one that is called by it", RunTest::unsoundCallee);
         due.sentence("or by one of these, is not sound.", RunTest::unsoundBehindCallees);
+        due.under("Promise 8: force");
         due.sentence("The same without any check.", RunTest::force);
         due.sentence("IllegalArgumentException if there is no such function",
                 RunTest::forceOfNoFunction);
+        due.under("Promise 9: run");
         due.sentence("Up to so many cycles", RunTest::soManyCycles);
         due.sentence("0 if the run goes on", RunTest::goesOn);
         due.sentence("1 if it is over by a RETURN", RunTest::overByReturn);
         due.sentence("2 by a trap.", RunTest::overByTrap);
         due.sentence("IllegalArgumentException if cycles are not 1 .. 10000", RunTest::wrongCycles);
         due.sentence("IllegalStateException if there was no start().", RunTest::noStart);
+        due.under("Promise 10: state");
         due.sentence("what 0: the trap, 0 without", RunTest::trapOfState);
         due.sentence("1, 2: the function and bundle of the frame on top", RunTest::frameOnTop);
         due.sentence("(at a trap those where it was)", RunTest::whereTheTrapWas);
@@ -302,14 +306,12 @@ public final class RunTest {
     }
 
     private static void trapOfState() {
-        BeltMachine m = Asm.pair(2, 0, 0, 0);
-        Asm.bundle(m, 0, Asm.divide(0, 1), Asm.load(1), Asm.branch(1, 2, 0, 1));
-        Asm.bundle(m, 0, Asm.call(1));
+        BeltMachine m = Asm.program(2, 0, Asm.divide(0, 1), Asm.load(1));
         Asm.bundle(m, 0, Asm.giveBack());
         m.force(0, 8, 4);
         due.same("none yet", m.state(0), 0);
         m.run(1);
-        due.same("none", m.state(0), 0);
+        due.same("none of a run that goes on", m.state(0), 0);
         long[][] arguments = {{8, 0}, {8, 16}, {8, 4}};
         int[] traps = {2, 3, 7};
         for (int i = 0; i < traps.length; i++) {

@@ -3,9 +3,12 @@ public final class TermsTest {
     private static final Due due = new Due();
 
     public static void main(String[] args) {
+        due.under("What it is");
         due.sentence("An object is used for at most 512 calls after it has been made",
                 TermsTest::calls512);
+        due.under("Terms, the constants");
         due.sentence("The constants: `NONE = -1`: None.", TermsTest::none);
+        due.under("Terms, FUNCTIONS");
         due.sentence("FUNCTIONS 0 .. 7", TermsTest::functions);
         due.sentence("have 0 to 4 ARGUMENTS", TermsTest::arguments);
         due.sentence("0 to 3 RESULTS", TermsTest::results);
@@ -15,10 +18,12 @@ public final class TermsTest {
         due.sentence("each FRAME has 8 SCRATCH cells.", TermsTest::scratchCells);
         due.sentence("VALUES are longs", TermsTest::longs);
         due.sentence("that wrap.", TermsTest::wrapAround);
+        due.under("Terms, BELT");
         due.sentence("A BELT has 8 POSITIONS, 0 the newest", TermsTest::positions);
         due.sentence("those from some place on are EMPTY.", TermsTest::empty);
         due.sentence("To DROP a value: it is at 0, all others move on by one", TermsTest::drop);
         due.sentence("what was at 7 is gone.", TermsTest::gone);
+        due.under("Terms, LIST");
         due.sentence("A LIST names positions: told as position + 1 in four bits each, the first "
                 + "one lowest", TermsTest::listOfPositions);
         due.sentence("up to a 0", TermsTest::listUpToZero);

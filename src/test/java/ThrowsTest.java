@@ -8,6 +8,7 @@ public final class ThrowsTest {
     private static final Due due = new Due();
 
     public static void main(String[] args) {
+        due.under("Terms, exceptions");
         due.sentence("A call that throws changes nothing.", ThrowsTest::changesNothing);
         due.sentence("A call that throws changes nothing.", ThrowsTest::fullStaysFull);
         due.sentence("A call that throws changes nothing.", ThrowsTest::noRunStaysNoRun);
