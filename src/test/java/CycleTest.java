@@ -5,6 +5,7 @@ public final class CycleTest {
     public static void main(String[] args) {
         due.under("Terms, CYCLE");
         due.sentence("A CYCLE of the frame on top, at its bundle", CycleTest::frameOnTop);
+        due.sentence("A CYCLE of the frame on top, at its bundle", CycleTest::bundleAsItIsThen);
         due.sentence("the operations issue in order", CycleTest::inOrder);
         due.sentence("each takes values from the belt as it is at the cycle's beginning",
                 CycleTest::beltAtTheBeginning);
@@ -56,6 +57,28 @@ public final class CycleTest {
         m.run(1);
         due.belt("the caller's belt", m, 5, 9);
         due.same("the caller's next bundle", m.state(2), 1);
+    }
+
+    /** A function may get more code while it runs, or waits for its callee. */
+    private static void bundleAsItIsThen() {
+        BeltMachine m = Asm.pair(1, 1, 0, 1);
+        Asm.bundle(m, 0, Asm.call(1));
+        Asm.go(m, 9, 0, 1);
+        Asm.bundle(m, 1, Asm.constant(5));
+        due.same("a bundle of the callee", m.run(1), 0);
+        due.belt("its belt", m, 5);
+        m.bundle(1);
+        m.operation(1, 14, 0, 0, Asm.list(0));
+        Asm.bundle(m, 0, Asm.add(0, 1));
+        due.same("back to the caller", m.run(1), 0);
+        due.belt("its belt", m, 5, 9);
+        m.operation(0, 0, 7, 0, 0);
+        due.same("a bundle of the caller", m.run(1), 0);
+        due.belt("both operations", m, 7, 14, 5, 9);
+        due.trap("and none behind it", m, 6, 5);
+        m.bundle(0);
+        due.same("what comes behind a trap", m.run(1), 2);
+        due.same("changes nothing of it", m.state(5), 5);
     }
 
     private static void inOrder() {

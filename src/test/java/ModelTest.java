@@ -31,6 +31,7 @@ public final class ModelTest {
     private static int started;
     private static int deep;
     private static int lookedAgain;
+    private static int grown;
 
     private ModelTest(int number) {
         this.number = number;
@@ -55,9 +56,10 @@ public final class ModelTest {
         due.isTrue("started " + started, started >= 100);
         due.isTrue("runs with calls " + deep, deep >= 100);
         due.isTrue("bundles looked at again " + lookedAgain, lookedAgain >= 20);
+        due.isTrue("programs that grew while they ran " + grown, grown >= 100);
         System.out.println("traps " + Arrays.toString(traps) + ", faults " + Arrays.toString(faults)
                 + ", ends " + Arrays.toString(ends) + ", started " + started + ", with calls " + deep
-                + ", looked at again " + lookedAgain);
+                + ", looked at again " + lookedAgain + ", grown while they ran " + grown);
         due.end();
     }
 
@@ -104,7 +106,9 @@ public final class ModelTest {
         for (int f = draw(9) == 0 ? -1 : 0; f < functions; f++) {
             check(f);
         }
-        for (int f = 0; f < functions; f++) {
+        // Those that are made while a program runs are not begun by themselves.
+        int made = functions;
+        for (int f = 0; f < made; f++) {
             begin(f);
             runs();
         }
@@ -124,7 +128,7 @@ public final class ModelTest {
         int bundles = draw(10) == 0 ? draw(27) : 2 + draw(flat ? 16 : 6);
         int filled = arguments[f];
         for (int i = 0; i < bundles; i++) {
-            both("bundle", () -> machine.bundle(f), () -> model.bundle(f));
+            bundle(f);
             int size = draw(flat ? 2 : 4);
             boolean last = i == bundles - 1;
             int issued = 0;
@@ -136,6 +140,10 @@ public final class ModelTest {
             }
             filled = Math.min(8, filled + issued);
         }
+    }
+
+    private void bundle(int f) {
+        both("bundle", () -> machine.bundle(f), () -> model.bundle(f));
     }
 
     /** A position that is likely to be there, if the program is to be a good one. */
@@ -253,11 +261,26 @@ public final class ModelTest {
                 both("setCell", () -> machine.setCell(cell, value),
                         () -> model.setCell(cell, value));
             }
+            if (draw(9) == 0) {
+                grow(draw(functions), answer);
+            }
         }
         if (model.state(0) >= 0) {
             traps[model.state(0)]++;
         }
         deep += model.state(6) > 1 ? 1 : 0;
+    }
+
+    /** Any call that a program is made by, behind a run() that gave this answer. */
+    private void grow(int f, Object answer) {
+        switch (draw(6)) {
+            case 0 -> function(draw(5), draw(4));
+            case 1, 2 -> bundle(f);
+            case 3 -> control(f, false, model.count(8 + f), 2);
+            case 4 -> check(f);
+            default -> plain(f, 2);
+        }
+        grown += answer.equals(0) ? 1 : 0;
     }
 
     private void reads(int count) {
